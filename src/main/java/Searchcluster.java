@@ -65,6 +65,7 @@ public final class Searchcluster {
     private int beats = 0;
     private int refusals = 0;
     private int knocks = 0;
+    /** Told by room() and to nobody else. */
     private int keptAsTheyCome = 4;
 
     public Searchcluster() {
@@ -568,6 +569,7 @@ public final class Searchcluster {
         if (questions[question].error != NONE || !takeView()) {
             return false;
         }
+        finder.countFound(questions[question]);
         finder.findHits(questions[question]);
         return true;
     }
@@ -582,7 +584,7 @@ public final class Searchcluster {
         return text.toString();
     }
 
-    // ---- inner things
+    // ---- inner things: no answer depends on them, and there is no index and no disk apart from the COPIES
 
     public int room(int many) throws IllegalArgumentException {
         need(isWithin(many, 1, 8));
@@ -908,16 +910,6 @@ public final class Searchcluster {
                 }
             }
             return true;
-        }
-
-        int timesOf(int field, int word) {
-            int times = 0;
-            for (int i = 0; i < sizeOf(field); i++) {
-                if (wordAt(field, i) == word) {
-                    times++;
-                }
-            }
-            return times;
         }
 
         /** The first place from this one on in which the WORD stands; NONE. */
@@ -1919,7 +1911,7 @@ public final class Searchcluster {
      * D + 1 at most 49 and c + l at most 32, so that it divides the least common multiple of 1 to 49 times that of
      * 1 to 32: that is WHOLE, and all SCORES are such multiples. The greatest one has 43 digits.
      */
-    private static final class Exact {
+    private static final class Score {
         private static final int BASE = 1000000000;
         private static final int LIMBS = 6;
         private static final int[] WHOLE = {639040000, 178683789, 988507175, 447513036, 0, 0};
@@ -1942,13 +1934,13 @@ public final class Searchcluster {
             }
         }
 
-        void setTo(Exact other) {
+        void setTo(Score other) {
             for (int i = 0; i < LIMBS; i++) {
                 limbs[i] = other.limbs[i];
             }
         }
 
-        void plus(Exact other) {
+        void plus(Score other) {
             int carry = 0;
             for (int i = 0; i < LIMBS; i++) {
                 int sum = limbs[i] + other.limbs[i] + carry;
@@ -1990,7 +1982,7 @@ public final class Searchcluster {
             return rest == 0;
         }
 
-        int compareWith(Exact other) {
+        int compareWith(Score other) {
             for (int i = LIMBS - 1; i >= 0; i--) {
                 if (limbs[i] != other.limbs[i]) {
                     return limbs[i] < other.limbs[i] ? -1 : 1;
@@ -2000,7 +1992,7 @@ public final class Searchcluster {
         }
 
         /** Brings it over a denominator, which starts as WHOLE, to lowest terms. */
-        void reduceOver(Exact denominator) {
+        void reduceOver(Score denominator) {
             denominator.setToOne();
             for (int prime : PRIMES) {
                 for (int i = 0; i < DIVISIONS_MOST; i++) {
@@ -2051,25 +2043,27 @@ public final class Searchcluster {
         private final int[] found = new int[LEAVES_MOST * FIELDS];
         /** COUNT, by LEAF and FIELD, in the DOCUMENT that is weighed. */
         private final int[] counts = new int[LEAVES_MOST * FIELDS];
-        private final Exact[] scores = new Exact[KEYS];
+        private final Score[] scores = new Score[KEYS];
         private final int[] hits = new int[KEYS];
         int hitCount = 0;
         private final int[] tally = new int[WORDS];
+        /** How often each WORD stands in each FIELD of the DOCUMENT that is weighed: dear to count LEAF by LEAF. */
+        private final int[] wordTimes = new int[WORDS * FIELDS];
         /** By level: what the ANDs and the OR that are being weighed there come to. */
         private final boolean[] andMatches = new boolean[LEVELS];
         private final boolean[] orMatches = new boolean[LEVELS];
-        private final Exact[] andScores = new Exact[LEVELS];
-        private final Exact[] orScores = new Exact[LEVELS];
-        private final Exact share = new Exact();
-        private final Exact term = new Exact();
+        private final Score[] andScores = new Score[LEVELS];
+        private final Score[] orScores = new Score[LEVELS];
+        private final Score share = new Score();
+        private final Score term = new Score();
 
         Finder() {
             for (int i = 0; i < KEYS; i++) {
-                scores[i] = new Exact();
+                scores[i] = new Score();
             }
             for (int i = 0; i < LEVELS; i++) {
-                andScores[i] = new Exact();
-                orScores[i] = new Exact();
+                andScores[i] = new Score();
+                orScores[i] = new Score();
             }
         }
 
@@ -2114,8 +2108,8 @@ public final class Searchcluster {
             }
         }
 
+        /** Behind countFound() of the same QUESTION, as each D is part of the SCORES. */
         void findHits(Question question) {
-            countFound(question);
             hitCount = 0;
             for (int key = 0; key < KEYS; key++) {
                 if (!isThere(key)) {
@@ -2183,7 +2177,27 @@ public final class Searchcluster {
             return NONE;
         }
 
+        private void countWords(Doc doc) {
+            for (int i = 0; i < wordTimes.length; i++) {
+                wordTimes[i] = 0;
+            }
+            for (int field = 0; field < FIELDS; field++) {
+                for (int i = 0; i < doc.sizeOf(field); i++) {
+                    int at = doc.wordAt(field, i) * FIELDS + field;
+                    if (at >= 0 && at < wordTimes.length) {
+                        wordTimes[at]++;
+                    }
+                }
+            }
+        }
+
+        private int timesOf(int word, int field) {
+            int at = word * FIELDS + field;
+            return at >= 0 && at < wordTimes.length ? wordTimes[at] : 0;
+        }
+
         private void countLeaves(Question question, Doc doc) {
+            countWords(doc);
             for (int i = 0; i < counts.length; i++) {
                 counts[i] = 0;
             }
@@ -2197,7 +2211,7 @@ public final class Searchcluster {
                     for (int field = 0; field < FIELDS && at + field < counts.length; field++) {
                         counts[at + field] = part.sort == Part.IS_PHRASE
                                 ? countPhrase(part, doc, field)
-                                : doc.timesOf(field, part.first + j);
+                                : timesOf(part.first + j, field);
                     }
                 }
             }
@@ -2258,7 +2272,7 @@ public final class Searchcluster {
                 clearOr(inner);
             } else {
                 matches = matchesPart(part, doc);
-                // What is DENIED counts for no SCORE, nor does any bracket around it that has "not".
+                // A UNIT with "not" has the SCORE 0, so that nothing in its bracket counts either.
                 if (matches && isScored && !part.isDenied) {
                     addShare(part, doc);
                 }
@@ -2374,9 +2388,13 @@ public final class Searchcluster {
 
         void tellCommon(StringBuilder out, int field, int most) {
             clearTally();
-            for (int word = 0; word < WORDS; word++) {
-                for (int key = 0; key < KEYS; key++) {
-                    if (isThere(key) && docs[key].timesOf(field, word) > 0) {
+            for (int key = 0; key < KEYS; key++) {
+                if (!isThere(key)) {
+                    continue;
+                }
+                countWords(docs[key]);
+                for (int word = 0; word < WORDS; word++) {
+                    if (timesOf(word, field) > 0) {
                         tally[word]++;
                     }
                 }

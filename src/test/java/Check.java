@@ -1,0 +1,159 @@
+/** What the tests have in common: it counts what is not as due, and ends the test accordingly. */
+final class Check {
+    interface Call {
+        Object run();
+    }
+
+    private final String name;
+    private int wrong = 0;
+    private int done = 0;
+
+    Check(String name) {
+        this.name = name;
+    }
+
+    void is(String what, Object got, Object due) {
+        done++;
+        if (!due.equals(got)) {
+            wrong++;
+            System.out.println(name + ": " + what + " answered " + got + ", due is " + due);
+        }
+    }
+
+    /** The call throws just this, and nothing is changed behind it. */
+    void fails(Searchcluster x, String what, Class<? extends RuntimeException> due, Call call) {
+        String before = picture(x) + x.house(4);
+        Object got;
+        try {
+            got = call.run();
+        } catch (RuntimeException e) {
+            got = e.getClass();
+        }
+        is(what, got, due);
+        is("all behind " + what, picture(x) + x.house(4), before);
+    }
+
+    void noIndex(Searchcluster x, String what, Call call) {
+        fails(x, what, IndexOutOfBoundsException.class, call);
+    }
+
+    void noArgument(Searchcluster x, String what, Call call) {
+        fails(x, what, IllegalArgumentException.class, call);
+    }
+
+    void noState(Searchcluster x, String what, Call call) {
+        fails(x, what, IllegalStateException.class, call);
+    }
+
+    /** The call is REFUSED (a text: "!"), and nothing is changed behind it but how often that was told. */
+    void refused(Searchcluster x, String what, Call call) {
+        String before = picture(x);
+        int often = x.house(4);
+        Object got = call.run();
+        is(what, got, got instanceof String ? "!" : (Object) (-9));
+        is("refusals behind " + what, x.house(4), often + 1);
+        is("all behind " + what, picture(x), before);
+    }
+
+    /** A call that only tells something changes nothing. */
+    void tells(Searchcluster x, String what, Object due, Call call) {
+        String before = picture(x) + x.house(4);
+        is(what, call.run(), due);
+        is("all behind " + what, picture(x) + x.house(4), before);
+    }
+
+    /** All that can be seen of an object without being REFUSED, but how often one was. */
+    static String picture(Searchcluster x) {
+        StringBuilder all = new StringBuilder(x.draft());
+        for (int what = 0; what <= 11; what++) {
+            all.append(what == 4 ? "" : " " + x.house(what));
+        }
+        for (int i = 0; i < x.house(0); i++) {
+            for (int what = 0; what <= 5; what++) {
+                all.append(' ').append(x.ofRequest(i, what));
+            }
+        }
+        for (int node = 0; node < 5; node++) {
+            for (int what = 0; what <= 3; what++) {
+                all.append(' ').append(x.ofNode(node, what));
+            }
+            for (int other = 0; other < 5; other++) {
+                all.append(x.reaches(node, other));
+            }
+            for (int shard = 0; shard < 3; shard++) {
+                all.append(copy(x, node, shard));
+            }
+            for (int key = 0; key < 48; key++) {
+                all.append(x.copyOf(node, key));
+            }
+        }
+        for (int i = 0; i < 3; i++) {
+            all.append(x.question(i)).append(x.error(i)).append(x.guide(i)).append(x.answers(i));
+        }
+        return all.append(x.sunk()).toString();
+    }
+
+    private static String copy(Searchcluster x, int node, int shard) {
+        StringBuilder all = new StringBuilder(x.members(node, shard));
+        for (int what = 0; what <= 10; what++) {
+            all.append(' ').append(x.ofCopy(node, shard, what));
+        }
+        for (int place = 0; place < x.ofCopy(node, shard, 3); place++) {
+            all.append(' ').append(x.act(node, shard, place));
+        }
+        return all.append(x.votes(node, shard)).toString();
+    }
+
+    /** A cluster in which each shard is answered: by node 0, 3 and 2, behind 5 beats. */
+    static Searchcluster settled() {
+        Searchcluster x = new Searchcluster();
+        x.settle(30);
+        return x;
+    }
+
+    /** Writes the draft anew; the words are told as they are written. */
+    static void draft(Searchcluster x, String title, String body, int year, int kind) {
+        x.erase();
+        x.facts(year, kind);
+        for (String word : title.split(" ")) {
+            x.write(0, word(word), -1, -1, -1);
+        }
+        for (String word : body.split(" ")) {
+            x.write(1, word(word), -1, -1, -1);
+        }
+    }
+
+    static int word(String text) {
+        return text.isEmpty() ? -1 : "bdfklmnrst".indexOf(text.charAt(0)) * 3 + "aio".indexOf(text.charAt(1));
+    }
+
+    /** Makes a question anew of tokens that are told as they are written. */
+    static void pose(Searchcluster x, int question, String text) {
+        x.unask(question, x.ask(question, -1, -1, -1, -1, -1));
+        for (String token : text.split(" ")) {
+            x.ask(question, token(token), -1, -1, -1, -1);
+        }
+    }
+
+    private static int token(String text) {
+        java.util.List<String> signs = java.util.List.of("(", ")", "and", "or", "not", "\"", "title:", "body:", "year:",
+                "kind:", "..", "^", "~");
+        if (text.isEmpty()) {
+            return -1;
+        }
+        if (signs.contains(text)) {
+            return 40 + signs.indexOf(text);
+        }
+        if (Character.isDigit(text.charAt(0))) {
+            return 100 + Integer.parseInt(text);
+        }
+        return text.endsWith("*") ? 30 + "bdfklmnrst".indexOf(text.charAt(0)) : word(text);
+    }
+
+    void end() {
+        System.out.println(name + ": " + done + " looked at, " + wrong + " not as due");
+        if (wrong > 0) {
+            System.exit(1);
+        }
+    }
+}
