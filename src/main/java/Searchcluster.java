@@ -81,7 +81,7 @@ public final class Searchcluster {
 
     public int write(int field, int a, int b, int c, int d)
             throws IndexOutOfBoundsException, IllegalArgumentException, IllegalStateException {
-        needField(field);
+        needIndex(field, FIELDS);
         int many = gather(a, b, c, d, NONE);
         for (int i = 0; i < GIVEN_MOST; i++) {
             need(given[i] == NONE || isWord(given[i]));
@@ -118,29 +118,29 @@ public final class Searchcluster {
     // ---- requests
 
     public int put(int key, boolean isNew) throws IndexOutOfBoundsException {
-        needKey(key);
+        needIndex(key, KEYS);
         return sendNew(key, isNew ? Request.NEW : Request.PUT, 0, false);
     }
 
     public int drop(int key) throws IndexOutOfBoundsException {
-        needKey(key);
+        needIndex(key, KEYS);
         return sendNew(key, Request.DROP, 0, false);
     }
 
     public int amend(int key, boolean isKind, int value) throws IndexOutOfBoundsException, IllegalArgumentException {
-        needKey(key);
+        needIndex(key, KEYS);
         need(isKind ? canBeKind(value) : canBeYear(value));
         return sendNew(key, Request.AMEND, value, isKind);
     }
 
     public int append(int key, int word) throws IndexOutOfBoundsException, IllegalArgumentException {
-        needKey(key);
+        needIndex(key, KEYS);
         need(isWord(word));
         return sendNew(key, Request.APPEND, word, false);
     }
 
     public int again(int request) throws IndexOutOfBoundsException {
-        needRequest(request);
+        needIndex(request, requests.size());
         Request sent = requests.get(request);
         Copy guide = shards[sent.key % SHARDS].guideFrom(door);
         if (guide == null || sent.isAcknowledged()) {
@@ -152,7 +152,7 @@ public final class Searchcluster {
     }
 
     public int ofRequest(int request, int what) throws IndexOutOfBoundsException, IllegalArgumentException {
-        needRequest(request);
+        needIndex(request, requests.size());
         need(isWithin(what, 0, 5));
         return requests.get(request).factOf(what);
     }
@@ -177,14 +177,14 @@ public final class Searchcluster {
     // ---- what happens to nodes
 
     public int door(int node) throws IndexOutOfBoundsException {
-        needNode(node);
+        needIndex(node, NODES);
         int before = door;
         door = node;
         return before;
     }
 
     public int fall(int node) throws IndexOutOfBoundsException {
-        needNode(node);
+        needIndex(node, NODES);
         if (!net.isUp(node)) {
             return 0;
         }
@@ -198,7 +198,7 @@ public final class Searchcluster {
     }
 
     public int rise(int node) throws IndexOutOfBoundsException {
-        needNode(node);
+        needIndex(node, NODES);
         if (net.isUp(node)) {
             return 0;
         }
@@ -207,8 +207,8 @@ public final class Searchcluster {
     }
 
     public int link(int a, int b, boolean isWhole) throws IndexOutOfBoundsException, IllegalArgumentException {
-        needNode(a);
-        needNode(b);
+        needIndex(a, NODES);
+        needIndex(b, NODES);
         need(a != b);
         if (net.isWhole(a, b) == isWhole) {
             return 0;
@@ -218,14 +218,14 @@ public final class Searchcluster {
     }
 
     public int join(int shard, int node) throws IndexOutOfBoundsException {
-        needShard(shard);
-        needNode(node);
+        needIndex(shard, SHARDS);
+        needIndex(node, NODES);
         return changeMembers(shard, node, true);
     }
 
     public int quit(int shard, int node) throws IndexOutOfBoundsException {
-        needShard(shard);
-        needNode(node);
+        needIndex(shard, SHARDS);
+        needIndex(node, NODES);
         return changeMembers(shard, node, false);
     }
 
@@ -279,27 +279,27 @@ public final class Searchcluster {
     // ---- what is asked of nodes and copies
 
     public boolean reaches(int a, int b) throws IndexOutOfBoundsException {
-        needNode(a);
-        needNode(b);
+        needIndex(a, NODES);
+        needIndex(b, NODES);
         return net.canReach(a, b);
     }
 
     public int ofNode(int node, int what) throws IndexOutOfBoundsException, IllegalArgumentException {
-        needNode(node);
+        needIndex(node, NODES);
         need(isWithin(what, 0, 3));
         return factOfNode(node, what);
     }
 
     public int ofCopy(int node, int shard, int what) throws IndexOutOfBoundsException, IllegalArgumentException {
-        needNode(node);
-        needShard(shard);
+        needIndex(node, NODES);
+        needIndex(shard, SHARDS);
         need(isWithin(what, 0, 10));
         return shards[shard].factOf(shards[shard].copies[node], what);
     }
 
     public String act(int node, int shard, int place) throws IndexOutOfBoundsException {
-        needNode(node);
-        needShard(shard);
+        needIndex(node, NODES);
+        needIndex(shard, SHARDS);
         Act act = shards[shard].copies[node].actAt(place);
         if (act == null) {
             throw new IndexOutOfBoundsException("no such place in the LOG");
@@ -310,28 +310,28 @@ public final class Searchcluster {
     }
 
     public String members(int node, int shard) throws IndexOutOfBoundsException {
-        needNode(node);
-        needShard(shard);
+        needIndex(node, NODES);
+        needIndex(shard, SHARDS);
         text.setLength(0);
         shards[shard].copies[node].tellMembers(text);
         return text.toString();
     }
 
     public int guide(int shard) throws IndexOutOfBoundsException {
-        needShard(shard);
+        needIndex(shard, SHARDS);
         Copy guide = shards[shard].guideFrom(door);
         return guide == null ? NONE : guide.node;
     }
 
     public int answers(int shard) throws IndexOutOfBoundsException {
-        needShard(shard);
+        needIndex(shard, SHARDS);
         Copy answerer = shards[shard].answererFrom(door);
         return answerer == null ? NONE : answerer.node;
     }
 
     public int votes(int node, int shard) throws IndexOutOfBoundsException {
-        needNode(node);
-        needShard(shard);
+        needIndex(node, NODES);
+        needIndex(shard, SHARDS);
         return shards[shard].foreseeVotes(shards[shard].copies[node]);
     }
 
@@ -368,7 +368,7 @@ public final class Searchcluster {
     // ---- what is asked of documents
 
     public String document(int key) throws IndexOutOfBoundsException {
-        needKey(key);
+        needIndex(key, KEYS);
         text.setLength(0);
         if (!tellDocument(key)) {
             return refuseText();
@@ -377,8 +377,8 @@ public final class Searchcluster {
     }
 
     public String copyOf(int node, int key) throws IndexOutOfBoundsException {
-        needNode(node);
-        needKey(key);
+        needIndex(node, NODES);
+        needIndex(key, KEYS);
         text.setLength(0);
         shards[key % SHARDS].copies[node].shelf.docs[key / SHARDS].tellIfThere(text);
         return text.toString();
@@ -389,7 +389,7 @@ public final class Searchcluster {
     }
 
     public String common(int field, int most) throws IndexOutOfBoundsException, IllegalArgumentException {
-        needField(field);
+        needIndex(field, FIELDS);
         need(isWithin(most, 1, TOLD_MOST));
         if (!takeView()) {
             return refuseText();
@@ -427,7 +427,7 @@ public final class Searchcluster {
 
     public int ask(int question, int a, int b, int c, int d, int e)
             throws IndexOutOfBoundsException, IllegalArgumentException, IllegalStateException {
-        needQuestion(question);
+        needIndex(question, QUESTIONS);
         int many = gather(a, b, c, d, e);
         for (int i = 0; i < GIVEN_MOST; i++) {
             need(given[i] == NONE || isToken(given[i]));
@@ -441,7 +441,7 @@ public final class Searchcluster {
     }
 
     public int unask(int question, int many) throws IndexOutOfBoundsException, IllegalArgumentException {
-        needQuestion(question);
+        needIndex(question, QUESTIONS);
         Question asked = questions[question];
         need(isWithin(many, 0, asked.size));
         asked.cutTo(asked.size - many);
@@ -449,7 +449,7 @@ public final class Searchcluster {
     }
 
     public int sample(int question, int k) throws IndexOutOfBoundsException, IllegalArgumentException {
-        needQuestion(question);
+        needIndex(question, QUESTIONS);
         need(isWithin(k, 0, 7));
         int[] tokens = sampleTokens(k);
         Question asked = questions[question];
@@ -459,25 +459,25 @@ public final class Searchcluster {
     }
 
     public String question(int question) throws IndexOutOfBoundsException {
-        needQuestion(question);
+        needIndex(question, QUESTIONS);
         text.setLength(0);
         questions[question].tell(text);
         return text.toString();
     }
 
     public int error(int question) throws IndexOutOfBoundsException {
-        needQuestion(question);
+        needIndex(question, QUESTIONS);
         return questions[question].error;
     }
 
     public int leaves(int question) throws IndexOutOfBoundsException {
-        needQuestion(question);
+        needIndex(question, QUESTIONS);
         return questions[question].countLeaves();
     }
 
     public int leaf(int question, int leaf, int field) throws IndexOutOfBoundsException, IllegalArgumentException {
-        needQuestion(question);
-        needField(field);
+        needIndex(question, QUESTIONS);
+        needIndex(field, FIELDS);
         need(isWithin(leaf, 0, questions[question].countLeaves() - 1));
         if (!takeView()) {
             return refuse();
@@ -489,7 +489,7 @@ public final class Searchcluster {
     // ---- answers
 
     public String search(int question, int from, int many) throws IndexOutOfBoundsException, IllegalArgumentException {
-        needQuestion(question);
+        needIndex(question, QUESTIONS);
         need(from >= 0 && isWithin(many, 1, TOLD_MOST));
         if (!findHits(question)) {
             return refuseText();
@@ -500,7 +500,7 @@ public final class Searchcluster {
     }
 
     public int count(int question) throws IndexOutOfBoundsException {
-        needQuestion(question);
+        needIndex(question, QUESTIONS);
         return findHits(question) ? finder.hitCount : refuse();
     }
 
@@ -517,14 +517,14 @@ public final class Searchcluster {
     }
 
     public int rank(int question, int key) throws IndexOutOfBoundsException {
-        needQuestion(question);
-        needKey(key);
+        needIndex(question, QUESTIONS);
+        needIndex(key, KEYS);
         return findHits(question) ? finder.placeOf(key) : refuse();
     }
 
     public String score(int question, int key) throws IndexOutOfBoundsException {
-        needQuestion(question);
-        needKey(key);
+        needIndex(question, QUESTIONS);
+        needIndex(key, KEYS);
         if (!findHits(question)) {
             return refuseText();
         }
@@ -538,8 +538,8 @@ public final class Searchcluster {
     }
 
     public String light(int question, int key) throws IndexOutOfBoundsException {
-        needQuestion(question);
-        needKey(key);
+        needIndex(question, QUESTIONS);
+        needIndex(key, KEYS);
         if (!findHits(question)) {
             return refuseText();
         }
@@ -553,8 +553,8 @@ public final class Searchcluster {
     }
 
     public int inCopy(int node, int question) throws IndexOutOfBoundsException {
-        needNode(node);
-        needQuestion(question);
+        needIndex(node, NODES);
+        needIndex(question, QUESTIONS);
         if (questions[question].error != NONE) {
             return refuse();
         }
@@ -575,7 +575,7 @@ public final class Searchcluster {
     }
 
     private String tellTally(int question, int by, int many) {
-        needQuestion(question);
+        needIndex(question, QUESTIONS);
         if (!findHits(question)) {
             return refuseText();
         }
@@ -594,12 +594,12 @@ public final class Searchcluster {
     }
 
     public int pack(int node) throws IndexOutOfBoundsException {
-        needNode(node);
+        needIndex(node, NODES);
         return net.isUp(node) ? 1 : 0;
     }
 
     public int save(int node) throws IndexOutOfBoundsException {
-        needNode(node);
+        needIndex(node, NODES);
         return net.isUp(node) ? 1 : 0;
     }
 
@@ -742,39 +742,10 @@ public final class Searchcluster {
         return "!";
     }
 
-    private static void needNode(int node) {
-        if (!isWithin(node, 0, NODES - 1)) {
-            throw new IndexOutOfBoundsException("no such NODE");
-        }
-    }
-
-    private static void needShard(int shard) {
-        if (!isWithin(shard, 0, SHARDS - 1)) {
-            throw new IndexOutOfBoundsException("no such SHARD");
-        }
-    }
-
-    private static void needKey(int key) {
-        if (!isWithin(key, 0, KEYS - 1)) {
-            throw new IndexOutOfBoundsException("no such KEY");
-        }
-    }
-
-    private static void needField(int field) {
-        if (!isWithin(field, 0, FIELDS - 1)) {
-            throw new IndexOutOfBoundsException("no such FIELD");
-        }
-    }
-
-    private static void needQuestion(int question) {
-        if (!isWithin(question, 0, QUESTIONS - 1)) {
-            throw new IndexOutOfBoundsException("no such QUESTION");
-        }
-    }
-
-    private void needRequest(int request) {
-        if (!isWithin(request, 0, requests.size() - 1)) {
-            throw new IndexOutOfBoundsException("no such REQUEST");
+    /** For what is numbered from 0 on: whether there is such a one. */
+    private static void needIndex(int number, int many) {
+        if (number < 0 || number >= many) {
+            throw new IndexOutOfBoundsException("nothing has this number");
         }
     }
 
