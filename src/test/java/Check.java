@@ -5,6 +5,7 @@ final class Check {
     }
 
     private final String name;
+    private String sentence = "";
     private int wrong = 0;
     private int done = 0;
 
@@ -16,8 +17,20 @@ final class Check {
         done++;
         if (!due.equals(got)) {
             wrong++;
-            System.out.println(name + ": " + what + " answered " + got + ", due is " + due);
+            System.out.println(name + sentence + ": " + what + " answered " + got + ", due is " + due);
         }
+    }
+
+    /** What is looked at from now on: a sentence (or a part of one) that stands in that section of the document. */
+    void section(int number, String quoted) {
+        is("in section " + number + " stands: " + quoted, DocText.isInSection(number, quoted), true);
+        sentence = ", section " + number + " (" + quoted + ")";
+    }
+
+    /** Likewise, of that promise. */
+    void promise(int number, String quoted) {
+        is("in promise " + number + " stands: " + quoted, DocText.isInPromise(number, quoted), true);
+        sentence = ", promise " + number + " (" + quoted + ")";
     }
 
     /** The call throws just this, and nothing is changed behind it. */
@@ -104,6 +117,30 @@ final class Check {
         return all.append(x.votes(node, shard)).toString();
     }
 
+    /** The ACTS of a LOG: "1:n 1:r0". */
+    static String log(Searchcluster x, int node, int shard) {
+        StringBuilder all = new StringBuilder();
+        int many = x.ofCopy(node, shard, 3);
+        for (int place = 0; place < many; place++) {
+            all.append(place == 0 ? "" : " ").append(x.act(node, shard, place));
+        }
+        return all.toString();
+    }
+
+    /** What a COPY is by, but its LOG: "leads, term 1, vote 0, acts 2, known 1, patience 0". */
+    static String state(Searchcluster x, int node, int shard) {
+        return (x.ofCopy(node, shard, 0) == 1 ? "leads" : "follows") + ", term " + x.ofCopy(node, shard, 1) + ", vote "
+                + x.ofCopy(node, shard, 2) + ", acts " + x.ofCopy(node, shard, 3) + ", known " + x.ofCopy(node, shard, 4)
+                + ", patience " + x.ofCopy(node, shard, 5);
+    }
+
+    /** All its LINKS to these are CUT, or whole. */
+    static void link(Searchcluster x, boolean isWhole, int node, int... others) {
+        for (int other : others) {
+            x.link(node, other, isWhole);
+        }
+    }
+
     /** A cluster in which each shard is answered: by node 0, 3 and 2, behind 5 beats. */
     static Searchcluster settled() {
         Searchcluster x = new Searchcluster();
@@ -135,7 +172,7 @@ final class Check {
         }
     }
 
-    private static int token(String text) {
+    static int token(String text) {
         java.util.List<String> signs = java.util.List.of("(", ")", "and", "or", "not", "\"", "title:", "body:", "year:",
                 "kind:", "..", "^", "~");
         if (text.isEmpty()) {
