@@ -7,6 +7,7 @@ public final class PromiseEdgesTest {
     private static final Check CHECK = new Check("PromiseEdgesTest");
 
     public static void main(String[] args) {
+        refused();
         write();
         erase();
         facts();
@@ -15,7 +16,12 @@ public final class PromiseEdgesTest {
         doorAndHouse();
         beat();
         settle();
+        fallRiseLink();
+        reaches();
         ofNode();
+        ofCopy();
+        act();
+        guideAndAnswers();
         members();
         votesOfNone();
         votes();
@@ -23,6 +29,8 @@ public final class PromiseEdgesTest {
         documents();
         common();
         askAndUnask();
+        questionsTold();
+        leaf();
         search();
         tallies();
         rankAndScore();
@@ -32,6 +40,44 @@ public final class PromiseEdgesTest {
         digest();
         lastCall();
         CHECK.end();
+    }
+
+    private static void refused() {
+        CHECK.section(0, "REFUSED is -9 (in texts \"!\"): told by a call where it is LET, but cannot be done; nothing changes then, "
+                + "but how often it was told (also by what is asked).");
+        Twins.Call[] calls = {x -> x.put(0, false), x -> x.put(0, true), x -> x.drop(0), x -> x.amend(0, true, 0),
+            x -> x.append(0, 0), x -> x.join(0, 3), x -> x.quit(0, 0), x -> x.document(0), x -> x.documents(),
+            x -> x.common(0, 1), x -> x.leaf(0, 0, 0), x -> x.search(0, 0, 1), x -> x.count(0), x -> x.spread(0), x -> x.facets(0),
+            x -> x.decades(0), x -> x.rank(0, 0), x -> x.score(0, 0), x -> x.light(0, 0), x -> x.inCopy(0, 1), x -> x.search(1, 0, 1),
+            x -> x.count(2)};
+        Twins twins = new Twins(CHECK, x -> x.sample(0, 0));
+        for (int i = 0; i < calls.length; i++) {
+            twins.refused("call " + i, calls[i]);
+        }
+        Searchcluster x = new Searchcluster();
+        x.sample(0, 0);
+        for (int i = 0; i < calls.length; i++) {
+            Object got = calls[i].run(x);
+            CHECK.is("answer of call " + i, got instanceof String ? got : got.toString(), got instanceof String ? "!" : "-9");
+            CHECK.is("how often", x.house(4), i + 1);
+        }
+        CHECK.section(0, "NONE is -1.");
+        CHECK.is("none", x.guide(0) + " " + x.answers(0) + " " + x.leaves(1) + " " + x.error(0) + " " + x.ofCopy(0, 0, 2),
+                "-1 -1 -1 -1 -1");
+        CHECK.is("these are not refused", x.house(4), calls.length);
+        CHECK.is("nor is what throws", throwing(x) + " " + x.house(4), "3 " + calls.length);
+    }
+
+    private static int throwing(Searchcluster x) {
+        int thrown = 0;
+        for (int i = 0; i < 3; i++) {
+            try {
+                CHECK.is("thrown", i == 0 ? x.put(48, false) : i == 1 ? x.count(3) : x.leaf(2, 0, 0), "nothing told");
+            } catch (IndexOutOfBoundsException | IllegalArgumentException e) {
+                thrown++;
+            }
+        }
+        return thrown;
     }
 
     private static void write() {
@@ -198,6 +244,125 @@ public final class PromiseEdgesTest {
         CHECK.is("one shard that is not answered is enough", beats > 0 && beats < 30 && x.house(11) == 3, true);
         x.door(3);
         CHECK.is("a door that is down", x.settle(30) + " " + x.house(3), "30 " + (35 + beats));
+    }
+
+    private static void fallRiseLink() {
+        Twins up = new Twins(CHECK, x -> x.settle(30));
+        Twins down = new Twins(CHECK, x -> {
+            x.settle(30);
+            x.fall(4);
+        });
+        CHECK.promise(13, "Returns 1 if it was UP, otherwise 0 (nothing happens then).");
+        up.answers("fall of one that was up", 1, x -> x.fall(4));
+        down.tells("fall of one that was down", 0, x -> x.fall(4));
+        CHECK.promise(14, "Returns 1 if it was DOWN, otherwise 0 (nothing happens then).");
+        down.answers("rise of one that was down", 1, x -> x.rise(4));
+        up.tells("rise of one that was up", 0, x -> x.rise(4));
+        CHECK.promise(15, "Returns 1 if it was not so, otherwise 0.");
+        Twins cut = new Twins(CHECK, x -> x.link(3, 4, false));
+        up.answers("cut of a whole one", 1, x -> x.link(3, 4, false));
+        up.tells("whole already", 0, x -> x.link(3, 4, true));
+        cut.answers("whole of a cut one", 1, x -> x.link(3, 4, true));
+        cut.tells("cut already", 0, x -> x.link(3, 4, false));
+        CHECK.is("a cut is kept as both fall and rise", cutAndFallen(), "false 1");
+    }
+
+    private static String cutAndFallen() {
+        Searchcluster x = new Searchcluster();
+        x.link(3, 4, false);
+        x.fall(3);
+        x.fall(4);
+        x.rise(4);
+        x.rise(3);
+        return x.reaches(3, 4) + " " + x.house(7);
+    }
+
+    private static void reaches() {
+        CHECK.promise(20, "Returns whether the one REACHES the other one.");
+        Twins twins = new Twins(CHECK, x -> {
+            x.link(0, 4, false);
+            x.fall(2);
+        });
+        for (int i = 0; i < 5; i++) {
+            for (int j = 0; j < 5; j++) {
+                int a = i;
+                int b = j;
+                boolean isCut = a + b == 4 && a * b == 0;
+                twins.tells(a + " and " + b, a != 2 && b != 2 && !isCut, x -> x.reaches(a, b));
+            }
+        }
+    }
+
+    private static void ofCopy() {
+        CHECK.promise(22, "0 ROLE, 1 TERM, 2 VOTE, 3 how many ACTS its LOG has, 4 KNOWN, 5 PATIENCE, 6 the TERM of its last ACT (0 "
+                + "without one), 7 how many DOCUMENTS, 8 1 if the NODE is a MEMBER by it, otherwise 0, 9 how many MEMBERS there are "
+                + "by it, 10 1 if the NODE CAN ANSWER for the SHARD, otherwise 0");
+        // 0 led with the term 1; 1 leads with the term 2; 2 was cut off in between; 4 joined and is cut off.
+        Twins twins = new Twins(CHECK, x -> {
+            x.settle(30);
+            x.put(0, false);
+            x.put(3, false);
+            x.drop(3);
+            x.beat(2);
+            x.fall(0);
+            x.door(1);
+            x.beat(5);
+            x.join(0, 4);
+            x.beat(1);
+            x.link(1, 2, false);
+            x.link(1, 4, false);
+            x.put(6, false);
+            x.beat(2);
+        });
+        int[][] due = {{0, 1, 0, 4, 4, 0, 1, 1, 1, 3, 0}, {1, 2, 1, 7, 5, 0, 2, 1, 1, 4, 0}, {0, 2, 1, 6, 5, 2, 2, 1, 1, 4, 0},
+            {0, 0, -1, 0, 0, 0, 0, 0, 0, 3, 0}, {0, 2, -1, 4, 4, 0, 1, 1, 0, 3, 0}};
+        for (int node = 0; node < 5; node++) {
+            for (int what = 0; what <= 10; what++) {
+                int n = node;
+                int w = what;
+                twins.tells("of the copy of " + n + ", " + w, due[n][w], x -> x.ofCopy(n, 0, w));
+            }
+        }
+        new Twins(CHECK, x -> x.settle(30)).tells("can answer", 1, x -> x.ofCopy(3, 1, 10));
+    }
+
+    private static void act() {
+        CHECK.promise(23, "Returns the ACT there: its TERM, \":\", and \"n\" for NOTHING");
+        Twins twins = new Twins(CHECK, x -> {
+            x.settle(30);
+            x.put(0, false);
+            x.join(0, 4);
+        });
+        twins.tells("the first one", "1:n", x -> x.act(0, 0, 0));
+        twins.tells("a request", "1:r0", x -> x.act(0, 0, 1));
+        twins.tells("the last one", "1:j4", x -> x.act(0, 0, 2));
+        twins.fails("one more", IndexOutOfBoundsException.class, x -> x.act(0, 0, 3));
+        twins.fails("one ahead", IndexOutOfBoundsException.class, x -> x.act(0, 0, -1));
+        twins.fails("the first one of an empty log", IndexOutOfBoundsException.class, x -> x.act(4, 0, 0));
+        twins.tells("the only one of another log", "1:n", x -> x.act(1, 0, 0));
+        twins.fails("the second one of that", IndexOutOfBoundsException.class, x -> x.act(1, 0, 1));
+        Searchcluster x = Check.settled();
+        for (int i = 0; i <= 100; i++) {
+            x.put(0, false);
+        }
+        CHECK.is("numbers of more digits", x.act(0, 0, 10) + " " + x.act(0, 0, 11) + " " + x.act(0, 0, 101), "1:r9 1:r10 1:r100");
+    }
+
+    private static void guideAndAnswers() {
+        Searchcluster x = new Searchcluster();
+        x.beat(2);
+        CHECK.promise(25, "Returns its GUIDE; NONE.");
+        CHECK.is("none yet", x.guide(0) + " " + x.guide(1) + " " + x.guide(2), "-1 -1 -1");
+        x.beat(1);
+        CHECK.is("two of three", x.guide(0) + " " + x.guide(1) + " " + x.guide(2), "0 3 -1");
+        CHECK.promise(26, "Returns the NODE by which it is ANSWERED; NONE.");
+        CHECK.is("none yet", x.answers(0) + " " + x.answers(1) + " " + x.answers(2), "-1 -1 -1");
+        x.beat(1);
+        CHECK.is("two of three", x.answers(0) + " " + x.answers(1) + " " + x.answers(2), "0 3 -1");
+        x.fall(0);
+        CHECK.is("a door that is down", x.guide(1) + " " + x.answers(1), "-1 -1");
+        x.door(2);
+        CHECK.is("another one", x.guide(1) + " " + x.answers(1) + " " + x.guide(0), "3 3 -1");
     }
 
     private static void ofNode() {
@@ -378,6 +543,53 @@ public final class PromiseEdgesTest {
             CHECK.is("text", x.question(1), String.join(" ", List.of("ba", "and", "bi", "or", "bo").subList(0, 5 - many)));
             CHECK.is("error", x.error(1), (5 - many) % 2 == 1 ? -1 : 5 - many);
         }
+    }
+
+    private static void questionsTold() {
+        CHECK.promise(35, "Returns how many TOKENS it has then.");
+        Searchcluster x = new Searchcluster();
+        CHECK.is("the least", x.sample(0, 0), 1);
+        CHECK.is("the greatest", x.sample(0, 5), 18);
+        CHECK.promise(36, "Returns it as a text.");
+        CHECK.is("text", x.question(0), "^ 2 body: ( ba and ( not di or ^ 4 \" ko la \" ) )");
+        CHECK.is("an empty one", x.question(1), "");
+        CHECK.promise(37, "Returns ERROR.");
+        CHECK.is("whole, empty", x.error(0) + " " + x.error(1), "-1 0");
+        CHECK.promise(38, "Returns how many LEAVES it has; NONE with an ERROR.");
+        CHECK.is("whole, empty", x.leaves(0) + " " + x.leaves(1), "3 -1");
+        x.unask(0, 1);
+        CHECK.is("just not whole", x.error(0) + " " + x.leaves(0), "17 -1");
+        Check.pose(x, 2, "year: 3");
+        CHECK.is("none", x.error(2) + " " + x.leaves(2), "-1 0");
+    }
+
+    private static void leaf() {
+        CHECK.promise(39, "Returns D; REFUSED if a SHARD is not ANSWERED.");
+        Twins.Recipe recipe = x -> {
+            x.settle(30);
+            Check.draft(x, "ba", "di ba", 0, 0);
+            x.put(0, false);
+            x.put(1, false);
+            x.put(2, false);
+            x.beat(1);
+            Check.pose(x, 0, "not title: ba and fo or body: di");
+            Check.pose(x, 1, "year: 0");
+        };
+        Twins twins = new Twins(CHECK, recipe);
+        int[][] due = {{3, 3}, {0, 0}, {0, 3}};
+        for (int i = 0; i < 3; i++) {
+            int leaf = i;
+            twins.tells("leaf " + i + " in titles", due[i][0], x -> x.leaf(0, leaf, 0));
+            twins.tells("leaf " + i + " in bodies", due[i][1], x -> x.leaf(0, leaf, 1));
+        }
+        twins.fails("one more", IllegalArgumentException.class, x -> x.leaf(0, 3, 0));
+        twins.fails("the first one of none", IllegalArgumentException.class, x -> x.leaf(1, 0, 0));
+        Twins refusing = new Twins(CHECK, x -> {
+            recipe.make(x);
+            x.link(0, 2, false);
+        });
+        refusing.refused("a shard is not answered", x -> x.leaf(0, 0, 0));
+        refusing.fails("exceptions go ahead of that", IllegalArgumentException.class, x -> x.leaf(0, 3, 0));
     }
 
     private static Searchcluster sixteen() {
@@ -585,7 +797,10 @@ public final class PromiseEdgesTest {
     }
 
     private static void digest() {
-        CHECK.promise(55, "which wraps around as a 64-bit integer");
+        CHECK.promise(55, "A number d starts with 7608; then d becomes d * 31 + v");
+        CHECK.promise(55, "house() of 0 to 11; REQUEST by REQUEST ofRequest() of 0 to 5; NODE by NODE ofNode() of 0 to 3, then SHARD "
+                + "by SHARD ofCopy() of 0 to 10 and members(); KEY by KEY document(); QUESTION by QUESTION error(), leaves(), "
+                + "count(), search() from 0, 10 at most, and facets(); 1 if isSound(), otherwise 0.");
         digest("a new object", x -> { });
         digest("one that answers", x -> {
             x.settle(30);

@@ -350,6 +350,15 @@ public final class Section3CopiesTest {
         CHECK.is("two of four, by its own log", x.ofCopy(0, 0, 10), 0);
         x.rise(3);
         CHECK.is("three of four", x.ofCopy(0, 0, 10), 1);
+        x = Check.settled();
+        x.fall(0);
+        x.door(1);
+        x.settle(30);
+        CHECK.is("another leader, with another member", x.ofCopy(1, 0, 10), 1);
+        x.fall(2);
+        CHECK.is("alone", x.ofCopy(1, 0, 10), 0);
+        x.rise(0);
+        CHECK.is("with the one that led", x.ofCopy(1, 0, 10), 1);
     }
 
     private static void canAnswerTerms() {

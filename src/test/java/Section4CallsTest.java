@@ -190,6 +190,19 @@ public final class Section4CallsTest {
         CHECK.is("in how many logs", x.ofRequest(1, 5) + " " + x.ofRequest(3, 5), "0 3");
         CHECK.is("members, as a join went", x.members(0, 0), "0 1 2");
         CHECK.is("document", x.copyOf(0, 0), "//0/0");
+        // Not even the first acts are alike: p is 0.
+        Searchcluster y = new Searchcluster();
+        y.beat(3);
+        y.put(0, false);
+        y.fall(0);
+        y.beat(4);
+        y.door(1);
+        y.put(0, false);
+        CHECK.is("other acts from the first one on", Check.log(y, 0, 0) + ", " + Check.log(y, 1, 0), "1:n 1:r0, 2:n 2:r1");
+        CHECK.is("that is sound", y.isSound(), true);
+        y.rise(0);
+        y.beat(1);
+        CHECK.is("all go", Check.log(y, 0, 0) + " " + y.sunk(), "2:n 2:r1 1");
         // One that has fewer and no other acts keeps them all.
         x.fall(0);
         x.put(9, false);
@@ -284,6 +297,7 @@ public final class Section4CallsTest {
         x.beat(4);
         state(x, "1 leads", 1, 0, "leads, term 2, vote 1, acts 7, known 5, patience 0");
         x.beat(1);
+        CHECK.section(3, "(in calls an ACT is added as it is, with its TERM");
         CHECK.is("2 has five acts of the term 1", Check.log(x, 2, 0), "1:n 1:r0 1:r1 1:r2 1:r3");
         x.door(1);
         x.put(0, false);
@@ -365,30 +379,47 @@ public final class Section4CallsTest {
         x.rise(3);
         CHECK.is("another one, and one that is down by now", x.beat(1), 1);
         CHECK.is("one that has it is down", x.ofNode(1, 0) + " " + x.ofCopy(1, 0, 3), "0 3");
+        notedOfAnotherTerm(Section3CopiesTest.withMembers(5), 0, 1, 1);
+        Searchcluster y = Section3CopiesTest.withMembers(5);
+        y.fall(0);
+        y.door(1);
+        y.settle(30);
+        y.rise(0);
+        y.beat(2);
+        notedOfAnotherTerm(y, 1, 0, 2);
+    }
+
+    /**
+     * The other one had four acts more as the leader led with that TERM, which went from the log of the leader since: as it
+     * leads again, they count no more.
+     */
+    private static void notedOfAnotherTerm(Searchcluster x, int leader, int other, int term) {
         CHECK.section(4, "NOTES are 0 of all");
-        // 1 had seven acts as 0 led with the term 1, which went from the log of 0 since: they count no more.
-        x = Section3CopiesTest.withMembers(5);
-        Check.link(x, false, 0, 2, 3, 4);
-        Check.link(x, false, 1, 2, 3, 4);
+        String log = Check.log(x, leader, 0);
+        int acts = x.ofCopy(leader, 0, 3);
+        CHECK.is("leads", x.guide(0) + " " + x.ofCopy(leader, 0, 1), leader + " " + term);
+        Check.link(x, false, leader, 2, 3, 4);
+        Check.link(x, false, other, 2, 3, 4);
         for (int i = 0; i < 4; i++) {
             x.put(0, false);
         }
         x.beat(6);
-        CHECK.is("seven", x.ofCopy(0, 0, 3) + " " + x.ofCopy(1, 0, 3) + " " + x.ofCopy(0, 0, 4), "7 7 3");
-        CHECK.is("2 leads", Check.log(x, 2, 0), "1:n 1:j3 1:j4 2:n");
-        x.fall(1);
-        Check.link(x, true, 0, 2, 3, 4);
+        CHECK.is("four more", x.ofCopy(other, 0, 3) + " " + x.ofCopy(leader, 0, 4), (acts + 4) + " " + acts);
+        CHECK.is("2 leads", Check.log(x, 2, 0), log + " " + (term + 1) + ":n");
+        x.fall(other);
+        Check.link(x, true, leader, 2, 3, 4);
         x.beat(1);
-        CHECK.is("four", Check.log(x, 0, 0), "1:n 1:j3 1:j4 2:n");
+        CHECK.is("one more", Check.log(x, leader, 0), log + " " + (term + 1) + ":n");
         x.fall(2);
-        x.beat(3);
-        state(x, "0 leads again", 0, 0, "leads, term 3, vote 0, acts 5, known 4, patience 0");
-        x.link(0, 4, false);
+        x.beat(3 + leader);
+        state(x, "it leads again", leader, 0, "leads, term " + (term + 2) + ", vote " + leader + ", acts " + (acts + 2)
+                + ", known " + (acts + 1) + ", patience 0");
+        x.link(leader, 4, false);
         x.beat(1);
-        CHECK.is("two of five, and one of whom it noted seven", x.ofCopy(0, 0, 4), 4);
-        x.link(0, 4, true);
+        CHECK.is("two of five, and one of whom it noted more", x.ofCopy(leader, 0, 4), acts + 1);
+        x.link(leader, 4, true);
         x.beat(1);
-        CHECK.is("three of five", x.ofCopy(0, 0, 4), 5);
+        CHECK.is("three of five", x.ofCopy(leader, 0, 4), acts + 2);
     }
 
     private static void itselfIfItIsOne() {

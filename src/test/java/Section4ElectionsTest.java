@@ -75,6 +75,16 @@ public final class Section4ElectionsTest {
         CHECK.is("ahead", x.ofCopy(0, 0, 0) + " " + x.ofCopy(0, 0, 1), "1 1");
         x.beat(1);
         state(x, "the leader that called nobody", 0, 0, "follows, term 2, vote -1, acts 2, known 2, patience 0");
+        // In shard 1, led by 3, 2 is the other member; 1 does not know that it quit, and asks in the sixth beat.
+        x = Check.settled();
+        x.link(1, 3, false);
+        x.quit(1, 1);
+        x.beat(2);
+        x.fall(1);
+        x.rise(1);
+        x.link(1, 3, true);
+        x.beat(6);
+        CHECK.is("another leader", x.ofCopy(1, 1, 1) + " " + x.ofCopy(3, 1, 0) + " " + x.ofCopy(3, 1, 1), "2 1 1");
     }
 
     private static void steadyWithMost() {

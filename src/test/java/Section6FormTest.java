@@ -20,6 +20,7 @@ public final class Section6FormTest {
         firstToken();
         justNotWhole();
         leaves();
+        askedAnew();
         CHECK.end();
     }
 
@@ -336,6 +337,31 @@ public final class Section6FormTest {
         Searchcluster x = new Searchcluster();
         Check.pose(x, 0, text);
         CHECK.is("leaves of " + text, x.leaves(0), due);
+    }
+
+    /** However it is asked, and whatever stood there before. */
+    private static void askedAnew() {
+        CHECK.promise(33, "Adds up to five TOKENS to a QUESTION, up to the first NONE of them.");
+        Searchcluster x = Check.settled();
+        Check.draft(x, "ba di", "ba ba ko", 5, 1);
+        x.put(0, false);
+        x.beat(1);
+        x.ask(0, 0, 42, 4, -1, -1);
+        x.ask(1, 0, -1, -1, -1, -1);
+        x.ask(1, 42, -1, -1, -1, -1);
+        x.ask(1, 4, -1, -1, -1, -1);
+        x.ask(2, 51, 103, 40, 4, -1);
+        x.ask(2, 43, 45, 0, 45, 41);
+        x.unask(2, 9);
+        x.ask(2, 0, 42, 4, -1, -1);
+        x.unask(2, 3);
+        x.ask(2, 0, 42, 4, -1, -1);
+        for (int question = 0; question < 3; question++) {
+            CHECK.is("text", x.question(question), "ba and di");
+            CHECK.is("leaves", x.leaves(question) + " " + x.leaf(question, 0, 1) + " " + x.leaf(question, 1, 1), "2 1 0");
+            CHECK.is("light", x.light(question, 0), "[ba] [di]/[ba] [ba] ko");
+            CHECK.is("score", x.search(question, 0, 10), "0:26/15");
+        }
     }
 
     private static void leaves() {

@@ -347,6 +347,7 @@ public final class ThrowsTest {
     }
 
     public static void main(String[] args) {
+        CHECK.section(7, "A method that throws an exception changes nothing.");
         allAreLookedAt();
         look("a new object", rows(0, 0, 0), x -> { });
         look("one that answers", rows(4, 3, 2), ThrowsTest::full);

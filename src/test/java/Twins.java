@@ -35,12 +35,18 @@ final class Twins {
         return x;
     }
 
+    /** What it throws is told by its class, and by itself if it is the machine that throws it. */
     private static Object answerOf(Searchcluster x, Call call) {
         try {
             return call.run(x);
         } catch (RuntimeException e) {
-            return e.getClass();
+            return isThrownByTheClass(e) ? e.getClass() : e;
         }
+    }
+
+    /** By a throw of its own, not by the machine or the library. */
+    private static boolean isThrownByTheClass(RuntimeException e) {
+        return e.getStackTrace().length > 0 && e.getStackTrace()[0].getClassName().startsWith("Searchcluster");
     }
 
     private int refusalsBehind(Call call) {
@@ -76,7 +82,8 @@ final class Twins {
 
     /** The call throws nothing. */
     void isLet(String what, Call call) {
-        check.is(what + " throws", answerOf(made(), call) instanceof Class<?>, false);
+        Object got = answerOf(made(), call);
+        check.is(what, got instanceof Class<?> || got instanceof Throwable ? got : "let", "let");
     }
 
     private String change(String now) {
