@@ -11,7 +11,6 @@ public final class AnswerTest {
         light();
         refused();
         inCopy();
-        wrong();
         CHECK.end();
     }
 
@@ -38,15 +37,15 @@ public final class AnswerTest {
         Searchcluster x = four();
         // ba: D 2 in titles, 3 in bodies; N + 1 is 5. 0 and 3: 2 * 5 / (3 * 3) + 5 / (4 * 2); 1: 5 * 2 / (4 * 6).
         CHECK.is("by falling scores, then by rising keys", found(x, "ba"), "0:125/72 3:125/72 1:5/12");
-        CHECK.tells(x, "from 1 on", "3:125/72 1:5/12", () -> x.search(2, 1, 10));
+        CHECK.is("from 1 on", x.search(2, 1, 10), "3:125/72 1:5/12");
         CHECK.is("one", x.search(2, 1, 1), "3:125/72");
         CHECK.is("behind the last", x.search(2, 3, 1), "");
         CHECK.is("far behind the last", x.search(2, Integer.MAX_VALUE, 10), "");
-        CHECK.tells(x, "count", 3, () -> x.count(2));
-        CHECK.tells(x, "rank", 1, () -> x.rank(2, 3));
+        CHECK.is("count", x.count(2), 3);
+        CHECK.is("rank", x.rank(2, 3), 1);
         CHECK.is("rank of no hit", x.rank(2, 2), -1);
         CHECK.is("rank of no document", x.rank(2, 47), -1);
-        CHECK.tells(x, "score", "5/12", () -> x.score(2, 1));
+        CHECK.is("score", x.score(2, 1), "5/12");
         CHECK.is("score of no hit", x.score(2, 2), "-");
         CHECK.is("score of no document", x.score(2, 47), "-");
         for (int key = 4; key < 48; key++) {
@@ -121,9 +120,9 @@ public final class AnswerTest {
     private static void tallies() {
         Searchcluster x = four();
         x.sample(0, 0);
-        CHECK.tells(x, "spread", "2 1 0", () -> x.spread(0));
-        CHECK.tells(x, "facets", "2 1 0 0 0 0", () -> x.facets(0));
-        CHECK.tells(x, "decades", "2 1 0 0 0 0 0 0 0 0", () -> x.decades(0));
+        CHECK.is("spread", x.spread(0), "2 1 0");
+        CHECK.is("facets", x.facets(0), "2 1 0 0 0 0");
+        CHECK.is("decades", x.decades(0), "2 1 0 0 0 0 0 0 0 0");
         x.amend(3, true, 5);
         x.amend(3, false, 99);
         x.amend(1, false, 10);
@@ -147,7 +146,7 @@ public final class AnswerTest {
         x.beat(1);
         String plain = "ba di/ba ko ba la di ba di di";
         CHECK.is("both fields", lit(x, "ba"), "[ba] di/[ba] ko [ba] la di [ba] di di");
-        CHECK.tells(x, "it tells only", "[ba] di/[ba] ko [ba] la di [ba] di di", () -> x.light(2, 0));
+        CHECK.is("again", x.light(2, 0), "[ba] di/[ba] ko [ba] la di [ba] di di");
         CHECK.is("a title", lit(x, "title: ba"), "[ba] di/ba ko ba la di ba di di");
         CHECK.is("a body", lit(x, "body: ( ba or title: di )"), "ba [di]/[ba] ko [ba] la di [ba] di di");
         CHECK.is("a prefix", lit(x, "body: l*"), "ba di/ba ko ba [la] di ba di di");
@@ -166,14 +165,14 @@ public final class AnswerTest {
     }
 
     private static void allRefused(Searchcluster x, int question) {
-        CHECK.refused(x, "search", () -> x.search(question, 0, 1));
-        CHECK.refused(x, "count", () -> x.count(question));
-        CHECK.refused(x, "spread", () -> x.spread(question));
-        CHECK.refused(x, "facets", () -> x.facets(question));
-        CHECK.refused(x, "decades", () -> x.decades(question));
-        CHECK.refused(x, "rank", () -> x.rank(question, 0));
-        CHECK.refused(x, "score", () -> x.score(question, 0));
-        CHECK.refused(x, "light", () -> x.light(question, 0));
+        CHECK.is("search", x.search(question, 0, 1), "!");
+        CHECK.is("count", x.count(question), -9);
+        CHECK.is("spread", x.spread(question), "!");
+        CHECK.is("facets", x.facets(question), "!");
+        CHECK.is("decades", x.decades(question), "!");
+        CHECK.is("rank", x.rank(question, 0), -9);
+        CHECK.is("score", x.score(question, 0), "!");
+        CHECK.is("light", x.light(question, 0), "!");
     }
 
     private static void refused() {
@@ -181,7 +180,7 @@ public final class AnswerTest {
         x.put(0, false);
         x.beat(1);
         allRefused(x, 0);
-        CHECK.refused(x, "in a copy", () -> x.inCopy(0, 0));
+        CHECK.is("in a copy", x.inCopy(0, 0), -9);
         x.sample(0, 0);
         CHECK.is("none", x.count(0), 0);
         x.fall(3);
@@ -192,7 +191,7 @@ public final class AnswerTest {
     private static void inCopy() {
         Searchcluster x = four();
         x.sample(0, 0);
-        CHECK.tells(x, "of who leads shard 0", 2, () -> x.inCopy(0, 0));
+        CHECK.is("of who leads shard 0", x.inCopy(0, 0), 2);
         CHECK.is("of who knows nothing yet", x.inCopy(1, 0), 0);
         x.beat(1);
         CHECK.is("of shards 0 and 1", x.inCopy(1, 0), 3);
@@ -202,30 +201,5 @@ public final class AnswerTest {
         x.beat(2);
         CHECK.is("of one that is down", x.inCopy(1, 0), 3);
         CHECK.is("of one that is up", x.inCopy(2, 0), 2);
-    }
-
-    private static void wrong() {
-        Searchcluster x = new Searchcluster();
-        for (int question : new int[] {-1, 3}) {
-            CHECK.noIndex(x, "search", () -> x.search(question, -1, 0));
-            CHECK.noIndex(x, "count", () -> x.count(question));
-            CHECK.noIndex(x, "spread", () -> x.spread(question));
-            CHECK.noIndex(x, "facets", () -> x.facets(question));
-            CHECK.noIndex(x, "decades", () -> x.decades(question));
-            CHECK.noIndex(x, "rank", () -> x.rank(question, 0));
-            CHECK.noIndex(x, "score", () -> x.score(question, 0));
-            CHECK.noIndex(x, "light", () -> x.light(question, 0));
-            CHECK.noIndex(x, "in a copy", () -> x.inCopy(0, question));
-        }
-        for (int key : new int[] {-1, 48}) {
-            CHECK.noIndex(x, "rank", () -> x.rank(0, key));
-            CHECK.noIndex(x, "score", () -> x.score(0, key));
-            CHECK.noIndex(x, "light", () -> x.light(0, key));
-        }
-        CHECK.noIndex(x, "in a copy of -1", () -> x.inCopy(-1, 0));
-        CHECK.noIndex(x, "in a copy of 5", () -> x.inCopy(5, 0));
-        CHECK.noArgument(x, "from -1", () -> x.search(0, -1, 1));
-        CHECK.noArgument(x, "0", () -> x.search(0, 0, 0));
-        CHECK.noArgument(x, "11", () -> x.search(0, 0, 11));
     }
 }

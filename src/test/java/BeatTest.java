@@ -15,7 +15,6 @@ public final class BeatTest {
         nothingNotedAtFirst();
         steadyLeader();
         sunk();
-        wrong();
         CHECK.end();
     }
 
@@ -167,9 +166,9 @@ public final class BeatTest {
 
     private static void votes() {
         Searchcluster x = Check.settled();
-        CHECK.tells(x, "of who leads", -1, () -> x.votes(0, 0));
-        CHECK.tells(x, "of no member", -1, () -> x.votes(3, 0));
-        CHECK.tells(x, "of all", 3, () -> x.votes(1, 0));
+        CHECK.is("of who leads", x.votes(0, 0), -1);
+        CHECK.is("of no member", x.votes(3, 0), -1);
+        CHECK.is("of all", x.votes(1, 0), 3);
         x.link(1, 2, false);
         CHECK.is("of who is reached", x.votes(1, 0), 2);
         x.fall(0);
@@ -252,7 +251,7 @@ public final class BeatTest {
     private static void sunk() {
         Searchcluster x = Check.settled();
         x.put(0, false);
-        CHECK.tells(x, "none", 0, () -> x.sunk());
+        CHECK.is("none", x.sunk(), 0);
         x.fall(0);
         x.door(1);
         x.settle(30);
@@ -264,32 +263,5 @@ public final class BeatTest {
         CHECK.is("waiting", x.ofRequest(0, 0), 1);
         CHECK.is("again", x.again(0), 2);
         CHECK.is("not sunk", x.sunk(), 0);
-    }
-
-    private static void wrong() {
-        Searchcluster x = Check.settled();
-        CHECK.noArgument(x, "beat 0", () -> x.beat(0));
-        CHECK.noArgument(x, "beat 11", () -> x.beat(11));
-        CHECK.noArgument(x, "settle 0", () -> x.settle(0));
-        CHECK.noArgument(x, "settle 31", () -> x.settle(31));
-        CHECK.noIndex(x, "copy of 5", () -> x.ofCopy(5, 0, 11));
-        CHECK.noIndex(x, "copy of -1", () -> x.ofCopy(-1, 0, 0));
-        CHECK.noIndex(x, "copy of shard 3", () -> x.ofCopy(0, 3, 11));
-        CHECK.noIndex(x, "copy of shard -1", () -> x.ofCopy(0, -1, 0));
-        CHECK.noArgument(x, "what 11", () -> x.ofCopy(0, 0, 11));
-        CHECK.noArgument(x, "what -1", () -> x.ofCopy(0, 0, -1));
-        CHECK.noIndex(x, "act of 5", () -> x.act(5, 0, 0));
-        CHECK.noIndex(x, "act of shard 3", () -> x.act(0, 3, 0));
-        CHECK.noIndex(x, "act 1", () -> x.act(0, 0, 1));
-        CHECK.noIndex(x, "act -1", () -> x.act(0, 0, -1));
-        CHECK.noIndex(x, "guide 3", () -> x.guide(3));
-        CHECK.noIndex(x, "guide -1", () -> x.guide(-1));
-        CHECK.noIndex(x, "answers 3", () -> x.answers(3));
-        CHECK.noIndex(x, "answers -1", () -> x.answers(-1));
-        CHECK.noIndex(x, "votes 5", () -> x.votes(5, 0));
-        CHECK.noIndex(x, "votes -1", () -> x.votes(-1, 0));
-        CHECK.noIndex(x, "votes in shard 3", () -> x.votes(0, 3));
-        CHECK.noIndex(x, "votes in shard -1", () -> x.votes(0, -1));
-        CHECK.is("a limit", x.beat(10) + x.settle(30), 0);
     }
 }

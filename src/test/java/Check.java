@@ -1,9 +1,5 @@
 /** What the tests have in common: it counts what is not as due, and ends the test accordingly. */
 final class Check {
-    interface Call {
-        Object run();
-    }
-
     private final String name;
     private String sentence = "";
     private int wrong = 0;
@@ -31,90 +27,6 @@ final class Check {
     void promise(int number, String quoted) {
         is("in promise " + number + " stands: " + quoted, DocText.isInPromise(number, quoted), true);
         sentence = ", promise " + number + " (" + quoted + ")";
-    }
-
-    /** The call throws just this, and nothing is changed behind it. */
-    void fails(Searchcluster x, String what, Class<? extends RuntimeException> due, Call call) {
-        String before = picture(x) + x.house(4);
-        Object got;
-        try {
-            got = call.run();
-        } catch (RuntimeException e) {
-            got = e.getClass();
-        }
-        is(what, got, due);
-        is("all behind " + what, picture(x) + x.house(4), before);
-    }
-
-    void noIndex(Searchcluster x, String what, Call call) {
-        fails(x, what, IndexOutOfBoundsException.class, call);
-    }
-
-    void noArgument(Searchcluster x, String what, Call call) {
-        fails(x, what, IllegalArgumentException.class, call);
-    }
-
-    void noState(Searchcluster x, String what, Call call) {
-        fails(x, what, IllegalStateException.class, call);
-    }
-
-    /** The call is REFUSED (a text: "!"), and nothing is changed behind it but how often that was told. */
-    void refused(Searchcluster x, String what, Call call) {
-        String before = picture(x);
-        int often = x.house(4);
-        Object got = call.run();
-        is(what, got, got instanceof String ? "!" : (Object) (-9));
-        is("refusals behind " + what, x.house(4), often + 1);
-        is("all behind " + what, picture(x), before);
-    }
-
-    /** A call that only tells something changes nothing. */
-    void tells(Searchcluster x, String what, Object due, Call call) {
-        String before = picture(x) + x.house(4);
-        is(what, call.run(), due);
-        is("all behind " + what, picture(x) + x.house(4), before);
-    }
-
-    /** All that can be seen of an object without being REFUSED, but how often one was. */
-    static String picture(Searchcluster x) {
-        StringBuilder all = new StringBuilder(x.draft());
-        for (int what = 0; what <= 11; what++) {
-            all.append(what == 4 ? "" : " " + x.house(what));
-        }
-        for (int i = 0; i < x.house(0); i++) {
-            for (int what = 0; what <= 5; what++) {
-                all.append(' ').append(x.ofRequest(i, what));
-            }
-        }
-        for (int node = 0; node < 5; node++) {
-            for (int what = 0; what <= 3; what++) {
-                all.append(' ').append(x.ofNode(node, what));
-            }
-            for (int other = 0; other < 5; other++) {
-                all.append(x.reaches(node, other));
-            }
-            for (int shard = 0; shard < 3; shard++) {
-                all.append(copy(x, node, shard));
-            }
-            for (int key = 0; key < 48; key++) {
-                all.append(x.copyOf(node, key));
-            }
-        }
-        for (int i = 0; i < 3; i++) {
-            all.append(x.question(i)).append(x.error(i)).append(x.guide(i)).append(x.answers(i));
-        }
-        return all.append(x.sunk()).toString();
-    }
-
-    private static String copy(Searchcluster x, int node, int shard) {
-        StringBuilder all = new StringBuilder(x.members(node, shard));
-        for (int what = 0; what <= 10; what++) {
-            all.append(' ').append(x.ofCopy(node, shard, what));
-        }
-        for (int place = 0; place < x.ofCopy(node, shard, 3); place++) {
-            all.append(' ').append(x.act(node, shard, place));
-        }
-        return all.append(x.votes(node, shard)).toString();
     }
 
     /** The ACTS of a LOG: "1:n 1:r0". */

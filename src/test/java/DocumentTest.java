@@ -6,14 +6,13 @@ public final class DocumentTest {
         answered();
         notAnswered();
         common();
-        wrong();
         CHECK.end();
     }
 
     private static void answered() {
         Searchcluster x = Check.settled();
-        CHECK.tells(x, "none", "-", () -> x.document(0));
-        CHECK.tells(x, "none", 0, () -> x.documents());
+        CHECK.is("none", x.document(0), "-");
+        CHECK.is("none", x.documents(), 0);
         Check.draft(x, "to", "", 99, 5);
         x.put(0, false);
         x.put(1, false);
@@ -21,8 +20,8 @@ public final class DocumentTest {
         x.put(45, false);
         CHECK.is("not known yet", x.documents(), 0);
         x.beat(1);
-        CHECK.tells(x, "document", "to//99/5", () -> x.document(0));
-        CHECK.tells(x, "documents", 4, () -> x.documents());
+        CHECK.is("document", x.document(0), "to//99/5");
+        CHECK.is("documents", x.documents(), 4);
         CHECK.is("the copy of who leads", x.copyOf(0, 45), "to//99/5");
         CHECK.is("a copy that does not know it", x.copyOf(1, 45), "-");
         CHECK.is("the copy of no member", x.copyOf(4, 45), "-");
@@ -44,23 +43,23 @@ public final class DocumentTest {
 
     private static void notAnswered() {
         Searchcluster x = new Searchcluster();
-        CHECK.refused(x, "document", () -> x.document(0));
-        CHECK.refused(x, "documents", () -> x.documents());
-        CHECK.refused(x, "common", () -> x.common(0, 1));
+        CHECK.is("document", x.document(0), "!");
+        CHECK.is("documents", x.documents(), -9);
+        CHECK.is("common", x.common(0, 1), "!");
         x.beat(4);
         CHECK.is("a shard that is answered", x.document(0), "-");
-        CHECK.refused(x, "a shard that is not", () -> x.document(2));
-        CHECK.refused(x, "two of three shards", () -> x.documents());
-        CHECK.refused(x, "two of three shards", () -> x.common(1, 10));
+        CHECK.is("a shard that is not", x.document(2), "!");
+        CHECK.is("two of three shards", x.documents(), -9);
+        CHECK.is("two of three shards", x.common(1, 10), "!");
         x.beat(1);
         CHECK.is("all", x.documents(), 0);
         CHECK.is("none", x.common(0, 10), "");
         x.link(0, 3, false);
-        CHECK.refused(x, "a leader that the door does not reach", () -> x.documents());
+        CHECK.is("a leader that the door does not reach", x.documents(), -9);
         // The leader of shard 0 is the door itself, and has no majority.
         x.link(0, 1, false);
         x.link(0, 2, false);
-        CHECK.refused(x, "without a majority", () -> x.document(0));
+        CHECK.is("without a majority", x.document(0), "!");
     }
 
     private static void common() {
@@ -70,30 +69,13 @@ public final class DocumentTest {
         Check.draft(x, "bi", "ta ta to di", 0, 0);
         x.put(1, false);
         x.beat(1);
-        CHECK.tells(x, "titles", "bi:2 ba:1", () -> x.common(0, 10));
-        CHECK.tells(x, "bodies", "ta:2 to:2 di:1 so:1 ti:1", () -> x.common(1, 5));
+        CHECK.is("titles", x.common(0, 10), "bi:2 ba:1");
+        CHECK.is("bodies", x.common(1, 5), "ta:2 to:2 di:1 so:1 ti:1");
         CHECK.is("three at most", x.common(1, 3), "ta:2 to:2 di:1");
         CHECK.is("one", x.common(0, 1), "bi:2");
         Check.draft(x, "", "ba bi bo da di do fa fi fo ka", 0, 0);
         x.put(2, false);
         x.beat(1);
         CHECK.is("ten", x.common(1, 10), "di:2 ta:2 to:2 ba:1 bi:1 bo:1 da:1 do:1 fa:1 fi:1");
-    }
-
-    private static void wrong() {
-        Searchcluster x = Check.settled();
-        CHECK.noIndex(x, "document 48", () -> x.document(48));
-        CHECK.noIndex(x, "document -1", () -> x.document(-1));
-        CHECK.noIndex(x, "copy of 5", () -> x.copyOf(5, 0));
-        CHECK.noIndex(x, "copy of -1", () -> x.copyOf(-1, 0));
-        CHECK.noIndex(x, "copy of key 48", () -> x.copyOf(0, 48));
-        CHECK.noIndex(x, "copy of key -1", () -> x.copyOf(0, -1));
-        CHECK.noIndex(x, "field 2", () -> x.common(2, 0));
-        CHECK.noIndex(x, "field -1", () -> x.common(-1, 1));
-        CHECK.noArgument(x, "0", () -> x.common(0, 0));
-        CHECK.noArgument(x, "11", () -> x.common(0, 11));
-        x.fall(0);
-        CHECK.noIndex(x, "exceptions go ahead of REFUSED", () -> x.document(48));
-        CHECK.noArgument(x, "exceptions go ahead of REFUSED", () -> x.common(1, 11));
     }
 }

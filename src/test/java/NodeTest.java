@@ -16,8 +16,6 @@ public final class NodeTest {
         CHECK.is("door before", x.door(4), 0);
         CHECK.is("door before", x.door(4), 4);
         CHECK.is("door", x.house(10), 4);
-        CHECK.noIndex(x, "door 5", () -> x.door(5));
-        CHECK.noIndex(x, "door -1", () -> x.door(-1));
         x.link(4, 0, false);
         CHECK.is("no guide behind a link that is cut", x.guide(0), -1);
         CHECK.is("the guide of another shard", x.guide(1), 3);
@@ -49,10 +47,6 @@ public final class NodeTest {
         CHECK.is("patience of a follower", x.ofCopy(1, 0, 5), 2);
         x.fall(0);
         CHECK.is("patience is lost", x.ofCopy(0, 0, 5), 0);
-        CHECK.noIndex(x, "fall 5", () -> x.fall(5));
-        CHECK.noIndex(x, "fall -1", () -> x.fall(-1));
-        CHECK.noIndex(x, "rise 5", () -> x.rise(5));
-        CHECK.noIndex(x, "rise -1", () -> x.rise(-1));
     }
 
     private static void link() {
@@ -74,11 +68,6 @@ public final class NodeTest {
         CHECK.is("one that is down", x.reaches(1, 3), false);
         CHECK.is("one that is down", x.reaches(3, 1), false);
         CHECK.is("one that is down, itself", x.reaches(1, 1), false);
-        CHECK.noIndex(x, "link 5", () -> x.link(5, 5, true));
-        CHECK.noIndex(x, "link -1", () -> x.link(0, -1, true));
-        CHECK.noArgument(x, "link to itself", () -> x.link(2, 2, false));
-        CHECK.noIndex(x, "reaches 5", () -> x.reaches(5, 0));
-        CHECK.noIndex(x, "reaches -1", () -> x.reaches(0, -1));
     }
 
     private static void ofNode() {
@@ -91,28 +80,19 @@ public final class NodeTest {
         // Keys 0 and 3 are on 0, 1, 2; 1 is on 1, 2, 3; 2 is on 2, 3, 4.
         int[] docs = {2, 3, 4, 2, 1};
         for (int node = 0; node < 5; node++) {
-            int n = node;
-            CHECK.tells(x, "leads", leads[node], () -> x.ofNode(n, 1));
-            CHECK.tells(x, "documents", docs[node], () -> x.ofNode(n, 3));
+            CHECK.is("leads", x.ofNode(node, 1), leads[node]);
+            CHECK.is("documents", x.ofNode(node, 3), docs[node]);
         }
         x.fall(2);
         CHECK.is("documents of one that is down", x.ofNode(2, 3), 4);
-        CHECK.noIndex(x, "node 5", () -> x.ofNode(5, 9));
-        CHECK.noIndex(x, "node -1", () -> x.ofNode(-1, 0));
-        CHECK.noArgument(x, "what 4", () -> x.ofNode(0, 4));
-        CHECK.noArgument(x, "what -1", () -> x.ofNode(0, -1));
     }
 
     private static void packAndSave() {
         Searchcluster x = Check.settled();
         x.fall(2);
-        CHECK.tells(x, "pack", 1, () -> x.pack(1));
-        CHECK.tells(x, "pack of one that is down", 0, () -> x.pack(2));
-        CHECK.tells(x, "save", 1, () -> x.save(4));
-        CHECK.tells(x, "save of one that is down", 0, () -> x.save(2));
-        CHECK.noIndex(x, "pack 5", () -> x.pack(5));
-        CHECK.noIndex(x, "pack -1", () -> x.pack(-1));
-        CHECK.noIndex(x, "save 5", () -> x.save(5));
-        CHECK.noIndex(x, "save -1", () -> x.save(-1));
+        CHECK.is("pack", x.pack(1), 1);
+        CHECK.is("pack of one that is down", x.pack(2), 0);
+        CHECK.is("save", x.save(4), 1);
+        CHECK.is("save of one that is down", x.save(2), 0);
     }
 }

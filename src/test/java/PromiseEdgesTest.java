@@ -454,6 +454,18 @@ public final class PromiseEdgesTest {
         CHECK.is("2 asks on, but has no vote of 1", x.votes(2, 0), 2);
         x.fall(2);
         CHECK.is("without 2", x.votes(0, 0), 1);
+        // 0 took the term of 1 as it called it, and gave nobody its vote of that term.
+        x = Check.settled();
+        x.link(0, 1, false);
+        x.beat(4);
+        x.link(0, 1, true);
+        x.beat(1);
+        CHECK.is("0 has no vote of that term", x.ofCopy(0, 0, 1) + " " + x.ofCopy(0, 0, 2), "2 -1");
+        CHECK.is("2 asks with that term: a vote of 0, none of 1", x.ofCopy(2, 0, 1) + " " + x.votes(2, 0), "1 2");
+        // In shard 0 all are of the term 1, and 1 and 2 gave 0 their votes; 3 joins, and gave none.
+        x = Section3CopiesTest.withMembers(4);
+        x.fall(0);
+        CHECK.is("all votes of a greater term", x.votes(1, 0) + " " + x.votes(3, 0), "3 3");
     }
 
     private static void sunk() {
@@ -721,6 +733,22 @@ public final class PromiseEdgesTest {
         x.link(0, 1, false);
         x.beat(8);
         CHECK.is("asked more often than won", x.house(8) + " " + x.house(9), "5 3");
+        Searchcluster y = new Searchcluster();
+        int[][] due = {{0, 0}, {0, 0}, {2, 2}, {3, 3}};
+        for (int beat = 0; beat < 4; beat++) {
+            y.beat(1);
+            CHECK.is("in beat " + beat, y.house(8) + " " + y.house(9), due[beat][0] + " " + due[beat][1]);
+        }
+        // Cut off: 1 of shard 1 for six beats, 4 of shard 2 for six.
+        Check.link(y, false, 3, 1);
+        y.beat(6);
+        CHECK.is("in shard 1", y.house(8) + " " + y.house(9), "4 3");
+        y.link(2, 4, false);
+        y.beat(6);
+        CHECK.is("in shard 2, and in shard 1", y.house(8) + " " + y.house(9), "6 3");
+        y.fall(3);
+        y.beat(10);
+        CHECK.is("won in shard 1", y.ofCopy(1, 1, 0) + y.ofCopy(2, 1, 0) + " " + y.house(9), "1 4");
         x.put(3, false);
         x.put(4, false);
         x.beat(1);
@@ -841,7 +869,7 @@ public final class PromiseEdgesTest {
         x = new Searchcluster();
         x.settle(30);
         x.put(0, false);
-        for (int i = 2; i < 500; i++) {
+        for (int i = 2; i < 499; i++) {
             CHECK.is("sent again", x.again(0), i);
         }
         int acknowledged = 0;

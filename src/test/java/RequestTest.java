@@ -8,22 +8,21 @@ public final class RequestTest {
         dropAmendAppend();
         sentAgain();
         late();
-        wrong();
         CHECK.end();
     }
 
     private static void withoutGuide() {
         Searchcluster x = new Searchcluster();
-        CHECK.refused(x, "put", () -> x.put(0, false));
-        CHECK.refused(x, "new", () -> x.put(47, true));
-        CHECK.refused(x, "drop", () -> x.drop(1));
-        CHECK.refused(x, "amend", () -> x.amend(2, true, 5));
-        CHECK.refused(x, "append", () -> x.append(3, 29));
+        CHECK.is("put", x.put(0, false), -9);
+        CHECK.is("new", x.put(47, true), -9);
+        CHECK.is("drop", x.drop(1), -9);
+        CHECK.is("amend", x.amend(2, true, 5), -9);
+        CHECK.is("append", x.append(3, 29), -9);
         x.settle(30);
         CHECK.is("put", x.put(0, false), 0);
         x.fall(0);
-        CHECK.refused(x, "put with the door down", () -> x.put(1, false));
-        CHECK.refused(x, "again with the door down", () -> x.again(0));
+        CHECK.is("put with the door down", x.put(1, false), -9);
+        CHECK.is("again with the door down", x.again(0), -9);
     }
 
     private static void putAndNew() {
@@ -94,7 +93,7 @@ public final class RequestTest {
         CHECK.is("acts", x.ofCopy(0, 0, 3), 4);
         CHECK.is("acknowledged once", x.beat(1), 1);
         CHECK.is("by its first place", x.ofRequest(0, 1), 1);
-        CHECK.refused(x, "again", () -> x.again(0));
+        CHECK.is("again", x.again(0), -9);
         // What is sent again has the term of the guide that adds it then.
         x.append(3, 1);
         x.append(3, 2);
@@ -130,31 +129,5 @@ public final class RequestTest {
         CHECK.is("not late", x.ofRequest(1, 1), 1);
         CHECK.is("not late", x.ofRequest(2, 1), 1);
         CHECK.is("document", x.document(0), "/ki/0/0");
-    }
-
-    private static void wrong() {
-        Searchcluster x = Check.settled();
-        x.put(0, false);
-        CHECK.noIndex(x, "put -1", () -> x.put(-1, false));
-        CHECK.noIndex(x, "put 48", () -> x.put(48, true));
-        CHECK.noIndex(x, "drop 48", () -> x.drop(48));
-        CHECK.noIndex(x, "drop -1", () -> x.drop(-1));
-        CHECK.noIndex(x, "amend 48", () -> x.amend(48, true, 9));
-        CHECK.noArgument(x, "kind 6", () -> x.amend(0, true, 6));
-        CHECK.noArgument(x, "kind -1", () -> x.amend(0, true, -1));
-        CHECK.noArgument(x, "year 100", () -> x.amend(0, false, 100));
-        CHECK.noArgument(x, "year -1", () -> x.amend(0, false, -1));
-        CHECK.noIndex(x, "append -1", () -> x.append(-1, 30));
-        CHECK.noArgument(x, "append of 30", () -> x.append(0, 30));
-        CHECK.noArgument(x, "append of NONE", () -> x.append(0, -1));
-        CHECK.noIndex(x, "again 1", () -> x.again(1));
-        CHECK.noIndex(x, "again -1", () -> x.again(-1));
-        CHECK.noIndex(x, "of request 1", () -> x.ofRequest(1, 6));
-        CHECK.noIndex(x, "of request -1", () -> x.ofRequest(-1, 0));
-        CHECK.noArgument(x, "what 6", () -> x.ofRequest(0, 6));
-        CHECK.noArgument(x, "what -1", () -> x.ofRequest(0, -1));
-        Searchcluster y = new Searchcluster();
-        CHECK.noIndex(y, "exceptions go ahead of REFUSED", () -> y.put(48, false));
-        CHECK.noArgument(y, "exceptions go ahead of REFUSED", () -> y.append(0, 30));
     }
 }

@@ -158,7 +158,7 @@ public final class Section1WordsTest {
         for (int key = 0; key < 48; key++) {
             x.put(key, false);
             int leader = new int[] {0, 3, 2}[key % 3];
-            CHECK.is("log of the shard of " + key, Check.log(x, leader, key % 3).endsWith(" 1:r" + key), true);
+            CHECK.is("log of the shard of " + key, x.act(leader, key % 3, key / 3 + 1), "1:r" + key);
             x.beat(1);
         }
         CHECK.is("sixteen each", x.ofCopy(0, 0, 7) + " " + x.ofCopy(3, 1, 7) + " " + x.ofCopy(2, 2, 7), "16 16 16");

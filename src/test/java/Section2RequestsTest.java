@@ -86,11 +86,15 @@ public final class Section2RequestsTest {
         CHECK.is("did", x.ofRequest(2, 1), 1);
         x.facts(3, 0);
         CHECK.is("where one was", x.put(0, true), 4);
+        x.facts(4, 0);
         x.put(0, true);
         x.beat(1);
         CHECK.is("did", x.ofRequest(4, 1), 1);
         CHECK.is("did not", x.ofRequest(5, 1), 0);
         CHECK.is("document", x.document(0), "//3/0");
+        x.put(0, false);
+        x.beat(1);
+        CHECK.is("but a put", x.document(0), "//4/0");
     }
 
     private static void drop() {

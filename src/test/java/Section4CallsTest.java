@@ -16,6 +16,7 @@ public final class Section4CallsTest {
         ownTermAlone();
         atMostItsLog();
         majorityThatHasIt();
+        majorityOfAnotherLeader();
         notedEarlier();
         itselfIfItIsOne();
         acknowledgedOnce();
@@ -366,6 +367,22 @@ public final class Section4CallsTest {
                 CHECK.is("known", x.ofCopy(0, 0, 4) - known, up >= others[many] ? 1 : 0);
             }
         }
+    }
+
+    private static void majorityOfAnotherLeader() {
+        CHECK.section(4, "and a MAJORITY of its MEMBERS has i");
+        Searchcluster x = Check.settled();
+        x.fall(0);
+        x.door(1);
+        x.settle(30);
+        x.rise(0);
+        x.beat(1);
+        x.fall(2);
+        x.put(0, false);
+        CHECK.is("1 leads, and 0 has it", x.guide(0) + " " + x.beat(1), "1 1");
+        x.fall(0);
+        x.put(0, false);
+        CHECK.is("1 leads, and has it alone", x.guide(0) + " " + x.beat(2), "1 0");
     }
 
     private static void notedEarlier() {

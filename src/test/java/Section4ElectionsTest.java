@@ -445,6 +445,12 @@ public final class Section4ElectionsTest {
         state(x, "it leads", 1, 0, "leads, term 2, vote 1, acts 3, known 2, patience 0");
         CHECK.is("nobody else has it yet", Check.log(x, 2, 0), "1:n 1:r0");
         CHECK.is("nobody else leads", x.ofCopy(0, 0, 0) + x.ofCopy(2, 0, 0), 0);
+        x = new Searchcluster();
+        x.beat(3);
+        x.fall(1);
+        x.fall(2);
+        x.beat(2);
+        CHECK.is("it notes nothing of those that it did not call yet", x.ofCopy(0, 0, 0) + " " + x.ofCopy(0, 0, 4), "1 0");
     }
 
     private static void oneAtATime() {

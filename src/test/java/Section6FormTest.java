@@ -6,6 +6,7 @@ public final class Section6FormTest {
         rows();
         tokens();
         sixty();
+        mostLeaves();
         sixtyNotWhole();
         or();
         and();
@@ -109,6 +110,23 @@ public final class Section6FormTest {
         CHECK.is("sixty are whole", x.error(0) + " " + x.leaves(0) + " " + x.ask(0, -1, -1, -1, -1, -1), "-1 30 60");
         CHECK.is("sixty in one bracket", bracket(58).error(0) + " " + bracket(58).ask(0, -1, -1, -1, -1, -1), "60 60");
         CHECK.is("59 in one bracket", bracket(57).error(0) + " " + bracket(57).ask(0, -1, -1, -1, -1, -1), "-1 59");
+    }
+
+    private static void mostLeaves() {
+        CHECK.section(6, "a PREFIX (three: its WORDS, rising)");
+        Searchcluster x = Check.settled();
+        Check.draft(x, "to", "to ba", 0, 0);
+        x.put(0, false);
+        x.put(1, false);
+        x.beat(1);
+        for (int i = 0; i < 59; i++) {
+            x.ask(0, i % 2 == 0 ? (i < 58 ? 36 : 39) : 43, -1, -1, -1, -1);
+        }
+        CHECK.is("as many as there can be", x.leaves(0), 90);
+        CHECK.is("the last one", x.leaf(0, 89, 0) + " " + x.leaf(0, 89, 1), "2 2");
+        CHECK.is("the one ahead", x.leaf(0, 88, 0) + " " + x.leaf(0, 88, 1), "0 0");
+        // 2 * 3 / (3 * 2) and 3 / (3 * 3).
+        CHECK.is("it is found by the last one", x.search(0, 0, 10), "0:4/3 1:4/3");
     }
 
     /** A bracket around that many tokens; with an even number of them the last one is "and". */
@@ -362,6 +380,14 @@ public final class Section6FormTest {
             CHECK.is("light", x.light(question, 0), "[ba] [di]/[ba] [ba] ko");
             CHECK.is("score", x.search(question, 0, 10), "0:26/15");
         }
+        String[][] due = {{"b*", "3"}, {"( ba )", "1"}, {"\" ba ba \" ~ 1", "1"}, {"( year: 5 )", "0"}, {"b* and not d*", "6"},
+            {"( ( ba ) or ba )", "2"}, {"year: 5 and kind: 1", "0"}, {"^ 2 body: b*", "3"}, {"( ba )", "1"}, {"ba", "1"}};
+        for (String[] pair : due) {
+            Check.pose(x, 0, pair[0]);
+            CHECK.is("leaves of " + pair[0], x.leaves(0) + "", pair[1]);
+        }
+        CHECK.is("score of the last", x.search(0, 0, 10), "0:16/15");
+        CHECK.is("light of the last", x.light(0, 0), "[ba] di/[ba] [ba] ko");
     }
 
     private static void leaves() {

@@ -222,6 +222,12 @@ public final class SoundnessTest {
             look("fewer that are known to " + node, false, x -> set(copyOf(x, node, 0), "known", 2));
         }
         look("of another shard", false, x -> set(document(x, 2, 1), "year", 21));
+        Searchcluster x = sound();
+        x.drop(0);
+        x.put(9, false);
+        CHECK.is("acts that are not known are no matter", x.isSound(), true);
+        x.beat(1);
+        CHECK.is("nor are those that others do not know", x.isSound() + " " + x.ofCopy(0, 0, 7) + " " + x.ofCopy(1, 0, 7), "true 3 3");
     }
 
     /** What was found is spoilt, and then looked at by itself: isSound() finds it anew. */

@@ -8,7 +8,7 @@ import java.util.Set;
 
 /**
  * Each "Throws" row of the promises, on both sides of its bounds: on a new object, on one that answers all, and on one
- * that REFUSES all as its DOOR is DOWN.
+ * that REFUSES all as its DOOR is DOWN. And what only asks, that it changes nothing.
  */
 public final class ThrowsTest {
     private static final Check CHECK = new Check("ThrowsTest");
@@ -50,6 +50,10 @@ public final class ThrowsTest {
         return new Kind(ARGUMENT, List.of(-1, 0, 52, 100, 199), List.of(-2, 53, 99, 200, Integer.MIN_VALUE, Integer.MAX_VALUE));
     }
 
+    /** Those that only tell something. */
+    private static final Set<String> ASKING = Set.of("ofRequest", "reaches", "ofNode", "ofCopy", "act", "members", "guide",
+            "answers", "votes", "document", "copyOf", "common", "question", "error", "leaves", "leaf", "search", "count", "spread",
+            "facets", "decades", "rank", "score", "light", "inCopy", "pack", "save", "house");
     private static final Kind FIELD = index(1);
     private static final Kind KEY = index(47);
     private static final Kind NODE = index(4);
@@ -233,6 +237,9 @@ public final class ThrowsTest {
 
     private static void look(String where, List<Row> rows, Twins.Recipe recipe) {
         Twins twins = new Twins(CHECK, recipe);
+        for (String name : List.of("draft", "sunk", "documents", "isSound", "digest")) {
+            twins.asks(name + " on " + where, x -> invoke(methodOf(name), x, new Object[0]));
+        }
         for (Row row : rows) {
             for (String sentence : row.sentences()) {
                 CHECK.promise(row.promise(), sentence);
@@ -242,7 +249,9 @@ public final class ThrowsTest {
                 Class<? extends RuntimeException> due = dueOf(row, arguments, recipe);
                 String what = row.method() + Arrays.toString(arguments) + " on " + where;
                 Twins.Call call = x -> invoke(method, x, arguments);
-                if (due == null) {
+                if (due == null && ASKING.contains(row.method())) {
+                    twins.asks(what, call);
+                } else if (due == null) {
                     twins.isLet(what, call);
                 } else {
                     twins.fails(what, due, call);

@@ -86,6 +86,15 @@ final class Twins {
         check.is(what, got instanceof Class<?> || got instanceof Throwable ? got : "let", "let");
     }
 
+    /** The call throws nothing, and changes nothing but how often REFUSED was told, if it tells that. */
+    void asks(String what, Call call) {
+        isLet(what, call);
+        Object got = answerOf(made(), call);
+        int more = got.equals(-9) || got.equals("!") ? 1 : 0;
+        check.is("changed by " + what, change(picture(call)), "nothing");
+        check.is("refusals behind " + what, refusalsBehind(call), refusalsBehind(null) + more);
+    }
+
     private String change(String now) {
         int from = 0;
         while (from < Math.min(now.length(), before.length()) && now.charAt(from) == before.charAt(from)) {
