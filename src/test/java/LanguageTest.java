@@ -246,6 +246,7 @@ public final class LanguageTest extends TreePathScanner<Void, Void> {
             rule(1, name + " is public or private", method.getModifiers().contains(Modifier.PUBLIC)
                     ? faceNames.contains(name) : method.getModifiers().contains(Modifier.PRIVATE) && !faceNames.contains(name), tree);
         }
+        rule(1, name + " bears the name of a public one", isOfFace || !faceNames.contains(name), tree);
         rule(6, name + " is none of every object's own", !Set.of("equals", "hashCode", "toString", "finalize").contains(name), tree);
         rule(3, "what " + name + " answers", isMade || isLet(method.getReturnType(), 0), tree);
         rule(11, "parameters of " + name, tree.getParameters().size() <= 7, tree);
