@@ -34,6 +34,11 @@ final class DocText {
         return start < 0 ? "" : TEXT.substring(start, end < 0 ? TEXT.length() : end);
     }
 
+    /** The Java that the document writes for the public face. */
+    static String face() {
+        return between("## The public face", "## Description");
+    }
+
     /** Section 0 is what stands ahead of section 1. */
     static boolean isInSection(int number, String sentence) {
         return TEXT.isEmpty() || between(HEADS[number], HEADS[number + 1]).contains(plain(sentence));

@@ -11,6 +11,7 @@ public final class DraftTest {
     }
 
     private static void newObject() {
+        CHECK.promise(1, "Creates five nodes that are up, with empty copies.");
         Searchcluster x = new Searchcluster();
         CHECK.is("draft", x.draft(), "//0/0");
         int[] house = {0, 0, 0, 0, 0, 0, 5, 0, 0, 0, 0, 0};
@@ -27,6 +28,9 @@ public final class DraftTest {
                     CHECK.is("copy " + node + " " + shard + " " + what, x.ofCopy(node, shard, what), copy[what]);
                 }
             }
+            for (int key = 0; key < 48; key++) {
+                CHECK.is("document", x.copyOf(node, key), "-");
+            }
         }
         CHECK.is("members of shard 0", x.members(4, 0), "0 1 2");
         CHECK.is("members of shard 2", x.members(0, 2), "2 3 4");
@@ -38,6 +42,7 @@ public final class DraftTest {
     }
 
     private static void write() {
+        CHECK.promise(5, "Returns the DRAFT as a text.");
         Searchcluster x = new Searchcluster();
         CHECK.is("title", x.write(0, 0, 1, -1, 5), 2);
         CHECK.is("nothing", x.write(0, -1, 7, 7, 7), 2);

@@ -10,6 +10,7 @@ public final class Section6AnswersTest {
         countOfPhrases();
         phraseNear();
         leafInDocuments();
+        leafWhereNobodyLooks();
         wordsMatch();
         yearsMatch();
         kindsMatch();
@@ -177,6 +178,22 @@ public final class Section6AnswersTest {
         CHECK.is("documents", x.documents(), 3);
         // 4 * 1 / (2 * 2), with N + 1 = 4.
         CHECK.is("it counts those without the word too", found(x, "ko"), "5:1");
+    }
+
+    /** Nothing there asks whether the PART looks at that FIELD. */
+    private static void leafWhereNobodyLooks() {
+        CHECK.promise(39, "Returns D; REFUSED if a SHARD is not ANSWERED.");
+        Searchcluster x = Check.settled();
+        put(x, 0, "ba di", "di fo", 0, 0);
+        put(x, 1, "ba", "ba di", 0, 0);
+        put(x, 2, "", "ba di", 0, 0);
+        x.beat(1);
+        Check.pose(x, 0, "title: ba or body: ba or title: \" ba di \" or body: \" ba di \" or title: ( d* ) or not body: di");
+        int[][] due = {{2, 2}, {2, 2}, {1, 2}, {1, 2}, {0, 0}, {1, 3}, {0, 0}, {1, 3}};
+        for (int leaf = 0; leaf < due.length; leaf++) {
+            CHECK.is("leaf " + leaf, x.leaf(0, leaf, 0) + " " + x.leaf(0, leaf, 1), due[leaf][0] + " " + due[leaf][1]);
+        }
+        CHECK.is("no other leaf", x.leaves(0), due.length);
     }
 
     private static void wordsMatch() {

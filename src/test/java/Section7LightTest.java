@@ -6,6 +6,7 @@ public final class Section7LightTest {
         words();
         fields();
         denied();
+        andsThatDoNotMatch();
         phrases();
         firstPlaceBehind();
         texts();
@@ -63,6 +64,25 @@ public final class Section7LightTest {
         lit(x, "not ( not \" ba di \" )", "ba di/fo");
         lit(x, "not ( not b* ) and di", "ba [di]/fo");
         lit(x, "not ( not ba ) and ba", "[ba] di/fo");
+    }
+
+    /** Nothing there asks whether the AND (or the bracket) matches in which the LEAF stands. */
+    private static void andsThatDoNotMatch() {
+        CHECK.section(7, "LIT is a WORD in a place of a FIELD of a DOCUMENT, if a LEAF that is not DENIED, and whose PART looks at "
+                + "that FIELD, is that WORD, or is a PHRASE that is counted in that place, or in one ahead, with this WORD there");
+        Searchcluster x = one("ba di", "fo di ko");
+        lit(x, "ba or di and la", "[ba] [di]/fo [di] ko");
+        lit(x, "ba or la and di", "[ba] [di]/fo [di] ko");
+        lit(x, "ba or ( di and la )", "[ba] [di]/fo [di] ko");
+        lit(x, "ba or ( la and ( di or lo ) )", "[ba] [di]/fo [di] ko");
+        lit(x, "ba or di and year: 31", "[ba] [di]/fo [di] ko");
+        lit(x, "ba or kind: 2 and title: d*", "[ba] [di]/fo di ko");
+        lit(x, "ba or di and not ko", "[ba] [di]/fo [di] ko");
+        lit(x, "ba or fo and title: ko", "[ba] di/[fo] di ko");
+        lit(x, "ba or \" fo ko \" ~ 1 and la", "[ba] di/[fo] di [ko]");
+        lit(x, "ba or la and body: \" di ko \"", "[ba] di/fo [di] [ko]");
+        lit(x, "ba or \" fo ko \" and la", "[ba] di/fo di ko");
+        lit(x, "year: 30 or not ba and di", "ba [di]/fo [di] ko");
     }
 
     private static void phrases() {
